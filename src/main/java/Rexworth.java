@@ -539,31 +539,32 @@ public final class Rexworth {
     static final int COUNT = 46;
     static final int AMOUNT = 47;
     static final int NAMED = 48;
-    static final int WHILE = 49;
-    static final int ENTER = 50;
-    static final int AGAIN = 51;
-    static final int END = 52;
-    static final int LEAVE = 53;
-    static final int ITERATE = 54;
-    static final int RETURN = 55;
-    static final int EXIT = 56;
-    static final int PROCEDURE = 57;
-    static final int SIGNAL = 58;
-    static final int CONDITION = 59;
+    static final int TRY = 49;
+    static final int WHILE = 50;
+    static final int ENTER = 51;
+    static final int AGAIN = 52;
+    static final int END = 53;
+    static final int LEAVE = 54;
+    static final int ITERATE = 55;
+    static final int RETURN = 56;
+    static final int EXIT = 57;
+    static final int PROCEDURE = 58;
+    static final int SIGNAL = 59;
+    static final int CONDITION = 60;
     // other clauses
-    static final int SET = 60;
-    static final int SAY = 61;
-    static final int COMMAND = 62;
-    static final int DIGITS = 63;
-    static final int PUSH = 64;
-    static final int QUEUE = 65;
-    static final int PULL = 66;
-    static final int ADDRESS = 67;
-    static final int DROP = 68;
-    static final int PARSE_ARG = 69;
-    static final int PARSE_VAR = 70;
-    static final int PARSE_VALUE = 71;
-    static final int INTERPRET = 72;
+    static final int SET = 61;
+    static final int SAY = 62;
+    static final int COMMAND = 63;
+    static final int DIGITS = 64;
+    static final int PUSH = 65;
+    static final int QUEUE = 66;
+    static final int PULL = 67;
+    static final int ADDRESS = 68;
+    static final int DROP = 69;
+    static final int PARSE_ARG = 70;
+    static final int PARSE_VAR = 71;
+    static final int PARSE_VALUE = 72;
+    static final int INTERPRET = 73;
     // what a template has
     static final int INTO = 80;
     static final int SKIP = 81;
@@ -635,22 +636,21 @@ public final class Rexworth {
       }
     }
 
+    /** Adds a cell; there is room for it since reserve. */
     void put(int cell) {
-      if (top >= cells.length) {
-        cells = moreCells(cells, top + 1);
+      if (top < cells.length) {
+        cells[top] = cell;
+        top++;
       }
-      cells[top] = cell;
-      top++;
     }
 
     void put(int first, int second, int third) {
-      if (top + 3 > cells.length) {
-        cells = moreCells(cells, top + 3);
+      if (top + 3 <= cells.length) {
+        cells[top] = first;
+        cells[top + 1] = second;
+        cells[top + 2] = third;
+        top += 3;
       }
-      cells[top] = first;
-      cells[top + 1] = second;
-      cells[top + 2] = third;
-      top += 3;
     }
 
     int cell(int place) {
@@ -892,7 +892,7 @@ public final class Rexworth {
       if (parts.kind(1) == Code.EQUAL) {
         return ASSIGNMENT;
       }
-      int keyword = find(KEYWORDS, 0);
+      int keyword = find(KEYWORDS, parts.from(0), parts.size(0));
       return keyword < 0 ? COMMAND : SAY + keyword;
     }
 
@@ -978,25 +978,26 @@ public final class Rexworth {
         enders = TO | BY | WHILE;
         int told = 0;
         next = 3;
-        if (!amount(enders)) {
+        if (!expression(enders) || !operation(Code.AMOUNT)) {
           return false;
         }
         if (isEnder(TO)) {
           told = TO;
           next++;
-          if (!amount(enders)) {
+          if (!expression(enders) || !operation(Code.AMOUNT)) {
             return false;
           }
         }
         if (isEnder(BY)) {
           told |= BY;
           next++;
-          if (!amount(enders)) {
+          if (!expression(enders) || !operation(Code.AMOUNT)) {
             return false;
           }
         }
         code.put(Code.NAMED, (told & TO) != 0 ? 1 : 0, (told & BY) != 0 ? 1 : 0);
-        pair(1);
+        code.put(Code.PLUS);
+        code.put(Code.TRY, parts.from(1), parts.size(1));
       } else if (parts.count == 1 || isEnder(WHILE)) {
         code.put(Code.DO);
         code.put(parts.count == 1 ? Calls.ONCE : Calls.ENDLESS);
@@ -1015,14 +1016,6 @@ public final class Rexworth {
       }
       code.put(Code.ENTER);
       return next == parts.count;
-    }
-
-    private boolean amount(int enders) {
-      if (!expression(enders)) {
-        return false;
-      }
-      code.put(Code.AMOUNT);
-      return true;
     }
 
     private boolean procedure() {
@@ -1060,8 +1053,10 @@ public final class Rexworth {
           count++;
         } while (parts.kind(next) == Code.COMMA && count < parts.count);
       }
-      code.put(Code.CALL, parts.from(1), parts.size(1));
-      code.put(count, find(Reckoner.FUNCTIONS, 1), 1);
+      int from = parts.from(1);
+      int size = parts.size(1);
+      code.put(Code.CALL, from, size);
+      code.put(count, find(Reckoner.FUNCTIONS, from, size), 1);
       return next == parts.count;
     }
 
@@ -1236,9 +1231,10 @@ public final class Rexworth {
         return isCall;
       }
       if (isCall) {
-        int name = heldParts[innermost];
-        code.put(Code.CALL, parts.from(name), parts.size(name));
-        code.put(heldCommas[innermost] + 1, find(Reckoner.FUNCTIONS, name), 0);
+        int from = parts.from(heldParts[innermost]);
+        int size = parts.size(heldParts[innermost]);
+        code.put(Code.CALL, from, size);
+        code.put(heldCommas[innermost] + 1, find(Reckoner.FUNCTIONS, from, size), 0);
       }
       held--;
       open--;
@@ -1264,10 +1260,11 @@ public final class Rexworth {
     }
 
     private boolean is(int part, String word) {
-      if (parts.kind(part) != Code.WORD || parts.size(part) != word.length()) {
+      if (part < 0 || part >= parts.count || parts.kinds[part] != Code.WORD
+          || parts.ends[part] - parts.begins[part] != word.length()) {
         return false;
       }
-      int from = parts.from(part);
+      int from = parts.begins[part];
       for (int i = 0; i < word.length(); i++) {
         if (code.text[from + i] != word.charAt(i)) {
           return false;
@@ -1295,9 +1292,7 @@ public final class Rexworth {
     }
 
     /** The place of a word in a list of words, from 0; -1 if it is not there. */
-    private int find(String list, int part) {
-      int from = parts.from(part);
-      int size = parts.size(part);
+    private int find(String list, int from, int size) {
       int index = 0;
       for (int at = 0; at < list.length(); at++) {
         int same = 0;
@@ -1415,7 +1410,7 @@ public final class Rexworth {
    * and each element tells in which turn of its stem it was set, as all are set with the stem.
    */
   private static final class Variables {
-    private static final int CELLS = 9;
+    private static final int CELLS = 10;
     private static final int NEXT = 0;
     private static final int POOL = 1;
     private static final int KIND = 2;
@@ -1425,6 +1420,7 @@ public final class Rexworth {
     private static final int VALUE_SIZE = 6;
     private static final int ROOM = 7;
     private static final int TURN = 8;
+    private static final int HASH = 9;
     private static final int ALONE = 0;
     private static final int ELEMENT = 1;
 
@@ -1448,6 +1444,7 @@ public final class Rexworth {
     private char[] found;
     private int foundFrom;
     private int foundSize;
+    private int hash;
 
     Variables(Code code) {
       this.code = code;
@@ -1610,10 +1607,13 @@ public final class Rexworth {
     }
 
     private boolean isExposed(int names, char[] text, int from, int size) {
-      int number = code.cell(names);
-      for (int i = 0; i < number; i++) {
-        if (code.cell(names + 2 * i + 2) == size) {
-          int at = code.cell(names + 2 * i + 1);
+      if (names < 0 || names >= code.top) {
+        return false;
+      }
+      int end = Math.min(names + 2 * code.cells[names], code.top - 1);
+      for (int name = names + 1; name < end; name += 2) {
+        if (code.cells[name + 1] == size) {
+          int at = code.cells[name];
           int same = 0;
           while (same < size && code.text[at + same] == text[from + same]) {
             same++;
@@ -1626,8 +1626,14 @@ public final class Rexworth {
       return false;
     }
 
+    /** Where a variable is kept; -1 if it is not. What it is hashed to is kept for slotFor. */
     private int find(int pool, char[] text, int from, int size, int kind) {
-      int slot = heads[hash(pool, text, from, size, kind) & (heads.length - 1)];
+      hash = 31 * pool + kind;
+      for (int i = from; i < from + size; i++) {
+        hash = 31 * hash + text[i];
+      }
+      hash ^= hash >>> 15;
+      int slot = heads[hash & (heads.length - 1)];
       for (int turn = 0; turn <= count && slot >= 0; turn++) {
         if (cells[slot + POOL] == pool && cells[slot + KIND] == kind
             && cells[slot + NAME_SIZE] == size) {
@@ -1643,14 +1649,6 @@ public final class Rexworth {
         slot = cells[slot + NEXT];
       }
       return -1;
-    }
-
-    private static int hash(int pool, char[] text, int from, int size, int kind) {
-      int sum = 31 * pool + kind;
-      for (int i = 0; i < size; i++) {
-        sum = 31 * sum + text[from + i];
-      }
-      return sum ^ (sum >>> 15);
     }
 
     /** Where the variable that is spoken of, or its stem, is kept, made if it is not there. */
@@ -1675,26 +1673,25 @@ public final class Rexworth {
       cells[slot + VALUE_SIZE] = -1;
       cells[slot + ROOM] = 0;
       cells[slot + TURN] = 0;
+      cells[slot + HASH] = hash;
+      int place = hash & (heads.length - 1);
+      cells[slot + NEXT] = heads[place];
+      heads[place] = slot;
       top += size;
       count++;
-      chain(slot);
       return slot;
     }
 
-    private void chain(int slot) {
-      int place = hash(cells[slot + POOL], signs, cells[slot + NAME], cells[slot + NAME_SIZE],
-          cells[slot + KIND]) & (heads.length - 1);
-      cells[slot + NEXT] = heads[place];
-      heads[place] = slot;
-    }
-
+    /** Lets all variables be found by more heads. */
     private void spread(int length) {
       heads = new int[length];
       for (int i = 0; i < length; i++) {
         heads[i] = -1;
       }
       for (int i = 0; i < count; i++) {
-        chain(i * CELLS);
+        int place = cells[i * CELLS + HASH] & (length - 1);
+        cells[i * CELLS + NEXT] = heads[place];
+        heads[place] = i * CELLS;
       }
     }
   }
@@ -1741,11 +1738,11 @@ public final class Rexworth {
       int left = 0;
       int at = from;
       count = 0;
-      while (at < end && (isDigit(text[at]) || text[at] == '.' && !dot)) {
-        if (text[at] == '.') {
+      while (at < end && (text[at] >= '0' && text[at] <= '9' || text[at] == '.' && !dot)) {
+        int digit = text[at] - '0';
+        if (digit < 0) {
           dot = true;
         } else {
-          int digit = text[at] - '0';
           seen++;
           decimals += dot ? 1 : 0;
           if (count < most && count < digits.length) {
@@ -1777,7 +1774,7 @@ public final class Rexworth {
       }
       int sum = 0;
       for (int i = at; i < end; i++) {
-        if (!isDigit(text[i])) {
+        if (text[i] < '0' || text[i] > '9') {
           return false;
         }
         sum = 10 * sum + text[i] - '0';
@@ -1920,7 +1917,8 @@ public final class Rexworth {
           out[size] = '.';
           size++;
         }
-        out[size] = (char) ('0' + digitOf(high));
+        int index = count + power - 1 - high;
+        out[size] = (char) ('0' + (index >= 0 && index < count ? digits[index] : 0));
         size++;
       }
       return size;
@@ -2060,11 +2058,6 @@ public final class Rexworth {
       return number.read(values.signs, values.fromOf(index), values.sizeOf(index), precision);
     }
 
-    /** Lets the last value be written as a number; false if it is none. */
-    boolean isNumber(int index) {
-      return read(first, index);
-    }
-
     /** Writes the last value as a number; tells the error, or 0. */
     int asAmount() {
       return read(result, values.count - 1) ? give(1) : NOT_WHOLE;
@@ -2072,19 +2065,30 @@ public final class Rexworth {
 
     /** A value as a whole number that is not below the least; -1 if it is no such one. */
     int whole(int index, int least) {
-      if (!read(first, index) || !first.isWhole()) {
+      boolean isNumber =
+          first.read(values.signs, values.fromOf(index), values.sizeOf(index), precision);
+      if (!isNumber || !first.isWhole()) {
         return -1;
       }
       int value = first.whole();
       return value < least ? -1 : value;
     }
 
-    int compareNumbers(int one, int other) {
-      return read(first, one) && read(second, other) ? first.compare(second) : 0;
+    boolean isNumber(int index) {
+      return first.read(values.signs, values.fromOf(index), values.sizeOf(index), precision);
     }
 
+    /** How two values compare that are numbers. */
+    int compareNumbers(int one, int other) {
+      first.read(values.signs, values.fromOf(one), values.sizeOf(one), precision);
+      second.read(values.signs, values.fromOf(other), values.sizeOf(other), precision);
+      return first.compare(second);
+    }
+
+    /** Whether a value that is a number is below 0. */
     boolean isBelowZero(int index) {
-      return read(first, index) && first.minus;
+      first.read(values.signs, values.fromOf(index), values.sizeOf(index), precision);
+      return first.minus;
     }
 
     private int answer(boolean truth, int taken) {
@@ -2145,9 +2149,10 @@ public final class Rexworth {
       int otherFrom = blanksAhead(other);
       int most = Math.max(values.sizeOf(one), values.sizeOf(other));
       for (int i = 0; i < most; i++) {
-        int order = Integer.compare(values.sign(one, oneFrom + i), values.sign(other, otherFrom + i));
-        if (order != 0) {
-          return order;
+        char sign = values.sign(one, oneFrom + i);
+        char its = values.sign(other, otherFrom + i);
+        if (sign != its) {
+          return sign < its ? -1 : 1;
         }
       }
       return 0;
@@ -2430,7 +2435,7 @@ public final class Rexworth {
       switch (function) {
         case LENGTH: return count(from, values.sizeOf(from));
         case WORDS: return count(from, wordsOf(from));
-        case WORD: return word(from);
+        case WORD: return word(from, whole(from + 1, 1));
         case SUBSTR: return cut(from, whole(from + 1, 1), whole(from + 2, 0));
         case COPIES: return copies(from, whole(from + 1, 0));
         case POS: return count(from, place(from, from + 1));
@@ -2460,8 +2465,7 @@ public final class Rexworth {
           && (place == 0 || values.sign(index, place - 1) == ' ');
     }
 
-    private int word(int from) {
-      int wanted = whole(from + 1, 1);
+    private int word(int from, int wanted) {
       if (wanted < 0) {
         return BAD_ARGUMENT;
       }
@@ -2530,7 +2534,7 @@ public final class Rexworth {
     }
 
     private int absolute(int from) {
-      if (!read(result, from)) {
+      if (!result.read(values.signs, values.fromOf(from), values.sizeOf(from), precision)) {
         return BAD_ARGUMENT;
       }
       result.minus = false;
@@ -2538,7 +2542,9 @@ public final class Rexworth {
     }
 
     private int choose(int from, boolean greater) {
-      if (!read(first, from) || !read(second, from + 1)) {
+      int next = from + 1;
+      if (!first.read(values.signs, values.fromOf(from), values.sizeOf(from), precision)
+          || !second.read(values.signs, values.fromOf(next), values.sizeOf(next), precision)) {
         return BAD_ARGUMENT;
       }
       int order = first.compare(second);
@@ -2548,14 +2554,18 @@ public final class Rexworth {
     }
   }
 
-  /** Parses texts by templates. */
+  /** Parses texts by templates, whose parts are met one by one. */
   private static final class Templates {
     private final Code code;
     private final Values values;
     private final Variables variables;
-    /** Where the code goes on behind the template that was done last. */
-    private int behind;
-    // the text that is parsed: a value, or -1 for an empty one
+    /** Where the names stand among which the next piece is shared. */
+    private int names;
+    // the values that are parsed, and how many values there are behind the template
+    private int first;
+    private int number;
+    private int base;
+    // the one that is parsed now: -1 for an empty text
     private int source;
     private int length;
     // where the last part began, and where what it parts begins
@@ -2568,39 +2578,41 @@ public final class Rexworth {
       this.variables = variables;
     }
 
-    /** Parses values by the template that stands in the code; tells the error, or 0. */
-    int parse(int template, int first, int number) {
-      int text = 0;
-      int names = template;
-      int error = 0;
-      open(number > 0 ? first : -1);
-      for (int at = template; at < code.top && error == 0; at += 3) {
-        int item = code.cell(at);
-        if (item == Code.INTO || item == Code.SKIP) {
-          continue;
-        }
-        int begin = from;
-        int end = item == Code.FOUND ? find(at) : item == Code.NEXT_TEXT || item == Code.LAST
-            ? length : moveTo(at);
-        error = end < 0 ? Reckoner.NOT_WHOLE : share(names, at, begin, end);
-        names = at + 3;
-        if (item == Code.LAST) {
-          behind = names;
-          return error;
-        }
-        if (item == Code.NEXT_TEXT) {
-          text++;
-          open(text < number ? first + text : -1);
-        }
-      }
-      return error;
+    /** Begins a template that stands in the code, for a number of values from one on. */
+    void begin(int template, int value, int texts, int valuesBehind) {
+      names = template;
+      first = value;
+      number = texts;
+      base = valuesBehind;
+      open(first);
     }
 
     private void open(int value) {
-      source = value;
-      length = values.sizeOf(value);
+      source = value < first + number ? value : -1;
+      length = values.sizeOf(source);
       lastBegin = 0;
       from = 0;
+    }
+
+    /** Does what stands at a cell of the template; tells the error, or 0. */
+    int meet(int at) {
+      int item = code.cell(at);
+      if (item == Code.INTO || item == Code.SKIP) {
+        return 0;
+      }
+      int begin = from;
+      int end = item == Code.FOUND ? find(at)
+          : item == Code.NEXT_TEXT || item == Code.LAST ? length : moveTo(at);
+      int error = end < 0 ? Reckoner.NOT_WHOLE : share(at, begin, end);
+      names = at + 3;
+      if (item == Code.NEXT_TEXT) {
+        first++;
+        number--;
+        open(first);
+      } else if (item == Code.LAST) {
+        values.truncate(base);
+      }
+      return error;
     }
 
     /** Goes to where a text is found, or to the end; tells where what is parted ends. */
@@ -2657,7 +2669,7 @@ public final class Rexworth {
     }
 
     /** Shares a piece of the text among names: a word to each, all that is left to the last. */
-    private int share(int names, int behindNames, int begin, int end) {
+    private int share(int behindNames, int begin, int end) {
       int at = begin;
       for (int name = names; name < behindNames; name += 3) {
         int stop = end;
@@ -2717,9 +2729,8 @@ public final class Rexworth {
     static final int LOOP = 5;
     static final int IS_AGAIN = 6;
     static final int LEFT = 7;
-    static final int NAME = 8;
-    static final int HAS_LIMIT = 9;
-    private static final int BLOCK = 10;
+    static final int HAS_LIMIT = 8;
+    private static final int BLOCK = 9;
 
     private final int[] frames;
     private int count;
@@ -2940,12 +2951,19 @@ public final class Rexworth {
             fault = reckoner.binary(operation);
           } else if (operation <= Code.NOT) {
             fault = reckoner.prefix(operation);
-          } else if (operation <= Code.CALL) {
-            operand(operation);
+          } else if (operation <= Code.VALUE) {
+            operand(operation, take(), take());
+          } else if (operation == Code.CALL) {
+            call(take(), take());
+          } else if (operation == Code.AGAIN) {
+            again();
           } else if (operation < Code.RETURN) {
             walk(operation);
           } else if (operation == Code.INTERPRET) {
             interpret();
+          } else if (operation >= Code.INTO) {
+            fault = templates.meet(pc - 1);
+            pc += 2;
           } else {
             perform(operation);
           }
@@ -3061,13 +3079,9 @@ public final class Rexworth {
       calls.set(Calls.TEXT_TOP, code.textTop);
     }
 
-    private void operand(int operation) {
-      int from = take();
-      int size = take();
+    private void operand(int operation, int from, int size) {
       if (operation == Code.LITERAL) {
         values.push(code.text, from, size);
-      } else if (operation == Code.CALL) {
-        call(from, size);
       } else {
         boolean isSet = variables.ask(code.text, from, size);
         boolean isStem = size > 0 && code.text[from + size - 1] == '.' && !variables.element;
@@ -3154,14 +3168,14 @@ public final class Rexworth {
         case Code.NAMED:
           beginNamed(take(), take());
           break;
+        case Code.TRY:
+          tryNext(take(), take());
+          break;
         case Code.WHILE:
           goOnWhile();
           break;
         case Code.ENTER:
           enterLoop();
-          break;
-        case Code.AGAIN:
-          again();
           break;
         case Code.END:
           endBlock();
@@ -3241,33 +3255,28 @@ public final class Rexworth {
     /** The values are there: the first one of the name, perhaps the limit, perhaps the step. */
     private void beginNamed(int hasLimit, int hasStep) {
       calls.setBlock(Calls.BLOCK_KIND, Calls.NAMED);
-      calls.setBlock(Calls.NAME, pc);
-      pc += 2;
       calls.setBlock(Calls.LOOP, pc);
+      // the operator that stands here is for further times
+      pc++;
       calls.setBlock(Calls.HAS_LIMIT, hasLimit);
       if (hasStep == 0) {
         values.push(code.text, Code.ONE, Code.ONE_SIZE);
       }
       int first = calls.block(Calls.BASE);
       values.push(values.signs, values.fromOf(first), values.sizeOf(first));
-      tryNext();
     }
 
-    /** Sets the name to the last value, and goes on if that is within the limit. */
-    private void tryNext() {
+    /** Sets the name to the last value, and leaves the block if that is beyond the limit. */
+    private void tryNext(int from, int size) {
       int base = calls.block(Calls.BASE);
-      int last = values.count - 1;
       boolean isBeyond = false;
       if (calls.block(Calls.HAS_LIMIT) == 1) {
-        int order = reckoner.compareNumbers(last, base + 1);
+        int order = reckoner.compareNumbers(values.count - 1, base + 1);
         isBeyond = reckoner.isBelowZero(base + 2) ? order < 0 : order > 0;
       }
-      int name = calls.block(Calls.NAME);
-      assign(code.cell(name), code.cell(name + 1));
+      assign(from, size);
       if (fault == 0 && isBeyond) {
         leaveBlock();
-      } else {
-        pc = calls.block(Calls.LOOP);
       }
     }
 
@@ -3298,22 +3307,21 @@ public final class Rexworth {
       now = calls.block(Calls.BEGIN);
       pc = calls.block(Calls.LOOP);
       int kind = calls.block(Calls.BLOCK_KIND);
-      if (kind == Calls.COUNTED) {
+      if (kind == Calls.NAMED) {
+        variables.locate(code.text, code.cell(pc + 2), code.cell(pc + 3));
+        goUp(calls.block(Calls.BASE) + 1 + calls.block(Calls.HAS_LIMIT));
+      } else if (kind == Calls.COUNTED) {
         int left = calls.block(Calls.LEFT) - 1;
         calls.setBlock(Calls.LEFT, left);
         if (left == 0) {
           leaveBlock();
         }
-      } else if (kind == Calls.NAMED) {
-        goUp();
       }
     }
 
-    /** Adds the step to what the name has now. */
-    private void goUp() {
-      int name = calls.block(Calls.NAME);
-      int step = calls.block(Calls.BASE) + 1 + calls.block(Calls.HAS_LIMIT);
-      variables.ask(code.text, code.cell(name), code.cell(name + 1));
+    /** Lets the step, which is one of the values, be added to what the name of a 'do' has now. */
+    private void goUp(int step) {
+      variables.look();
       if (variables.isTooLong() || variables.foundSize > MOST_TEXT) {
         fault = Reckoner.TOO_LONG;
         return;
@@ -3321,13 +3329,8 @@ public final class Rexworth {
       values.push(variables.found, variables.foundFrom, variables.foundSize);
       if (!reckoner.isNumber(values.count - 1)) {
         fault = Reckoner.NOT_WHOLE;
-        return;
       }
       values.push(values.signs, values.fromOf(step), values.sizeOf(step));
-      fault = reckoner.binary(Code.PLUS);
-      if (fault == 0) {
-        tryNext();
-      }
     }
 
     private void endBlock() {
@@ -3402,7 +3405,7 @@ public final class Rexworth {
           signal(take(), take());
           break;
         case Code.CONDITION:
-          calls.toldOn[take() == 1 ? 1 : 0] = take() == 1 ? calls.called : -1;
+          tell(take(), take() == 1);
           break;
         case Code.SET:
           assign(take(), take());
@@ -3431,14 +3434,14 @@ public final class Rexworth {
           dropVariables(take());
           break;
         case Code.PARSE_ARG:
-          parse(calls.get(Calls.FIRST_ARGUMENT), calls.get(Calls.ARGUMENTS));
+          templates.begin(pc, calls.get(Calls.FIRST_ARGUMENT), calls.get(Calls.ARGUMENTS),
+              values.count);
           break;
         case Code.PARSE_VAR:
           parseVariable(take(), take());
           break;
         case Code.PARSE_VALUE:
-          parse(last, 1);
-          values.drop(1);
+          templates.begin(pc, last, 1, last);
           break;
         default:
           stop(ENDED, 0);
@@ -3492,6 +3495,11 @@ public final class Rexworth {
       } else {
         jump(label);
       }
+    }
+
+    /** Lets a condition be on or off from now on. */
+    private void tell(int condition, boolean on) {
+      calls.toldOn[condition == 1 ? 1 : 0] = on ? calls.called : -1;
     }
 
     private void command(int last) {
@@ -3554,11 +3562,6 @@ public final class Rexworth {
       }
     }
 
-    private void parse(int first, int number) {
-      fault = templates.parse(pc, first, number);
-      pc = templates.behind;
-    }
-
     private void parseVariable(int from, int size) {
       variables.ask(code.text, from, size);
       if (variables.isTooLong() || variables.foundSize > MOST_TEXT) {
@@ -3566,8 +3569,7 @@ public final class Rexworth {
         return;
       }
       values.push(variables.found, variables.foundFrom, variables.foundSize);
-      parse(values.count - 1, 1);
-      values.drop(1);
+      templates.begin(pc, values.count - 1, 1, values.count - 1);
     }
   }
 }
