@@ -1556,8 +1556,14 @@ public final class OracleTest {
       return random.nextBoolean() ? t.substring(1, t.length() - 1) : pick(NUMBERS);
     }
 
+    /** Whether most of what is made shall go well. */
+    boolean calm;
+
     String operand(int depth) {
       int k = random.nextInt(20);
+      if (calm && k < 14 && k != 5) {
+        return k < 7 ? pick(new String[] {"a", "b", "i", "n"}) : "" + (1 + random.nextInt(9));
+      }
       if (k < 6) {
         return pick(NAMES);
       }
@@ -1600,7 +1606,12 @@ public final class OracleTest {
     static final String[] OPERATORS = {"+", "-", "*", "/", "%", "//", "**", "||", " ", "", "=", "~=",
       "<", ">", "<=", ">=", "==", "&", "|", " + ", " * ", " = ", " / ", "-", "+"};
 
+    static final String[] CALM = {"+", "-", "*", " + ", " ", " - ", "=", "<", "||"};
+
     String expression(int depth) {
+      if (calm && random.nextInt(8) != 0) {
+        return operand(depth) + pick(CALM) + operand(depth - 1);
+      }
       StringBuilder b = new StringBuilder(operand(depth));
       for (int i = random.nextInt(depth + 2); i > 0; i--) {
         b.append(pick(OPERATORS)).append(operand(depth - 1));
@@ -1623,13 +1634,26 @@ public final class OracleTest {
 
     List<String> program() {
       List<String> lines = new ArrayList<>();
+      calm = random.nextBoolean();
       int size = 1 + random.nextInt(12);
+      if (calm) {
+        for (String name : new String[] {"a", "b", "i", "n", "x."}) {
+          lines.add(name + " = " + random.nextInt(5));
+        }
+        size = 1 + random.nextInt(7);
+      }
       if (random.nextInt(3) == 0) {
         lines.add("signal on " + pick(new String[] {"syntax", "novalue"}));
       }
       block(lines, size, 3);
       if (random.nextBoolean()) {
         lines.add("exit");
+      }
+      if (calm) {
+        if (lines.size() < 28) {
+          routines(lines);
+        }
+        return fitting(lines);
       }
       int routines = random.nextInt(4);
       for (int i = 0; i < routines; i++) {
@@ -1646,6 +1670,24 @@ public final class OracleTest {
         block(lines, random.nextInt(4), 2);
         lines.add("return" + (random.nextInt(4) == 0 ? "" : " " + fit(expression(1), 52)));
       }
+      return fitting(lines);
+    }
+
+    /** All labels, with what mostly returns. */
+    void routines(List<String> lines) {
+      lines.addAll(List.of("f:", "procedure expose x. b", "parse arg a b, n"));
+      lines.add("return a + " + fit(expression(1), 40));
+      lines.addAll(List.of("syntax:", "say 'caught' i", "signal on syntax"));
+      lines.add(pick(new String[] {"return 3", "i = i + 1", "signal g", "a = 1"}));
+      lines.addAll(List.of("g:", clause(), "return " + fit(expression(1), 50)));
+      lines.addAll(List.of("novalue:", "b = b + 1", "h:"));
+      if (random.nextBoolean()) {
+        lines.add("procedure");
+      }
+      lines.addAll(List.of(clause(), "return b"));
+    }
+
+    static List<String> fitting(List<String> lines) {
       while (lines.size() > 40) {
         lines.remove(lines.size() - 1);
       }
