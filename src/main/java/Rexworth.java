@@ -705,7 +705,7 @@ public final class Rexworth {
       whole = true;
       int end = from + size;
       int at = from;
-      while (at < end && whole) {
+      for (int turn = 0; turn < size && at < end && whole; turn++) {
         char sign = text[at];
         int begin = at;
         int kind;
@@ -3350,7 +3350,7 @@ public final class Rexworth {
         fault = NO_LOOP;
         return;
       }
-      while (!calls.isLoop()) {
+      while (calls.blockCount > 0 && !calls.isLoop()) {
         dropBlock();
       }
       if (leave) {

@@ -307,6 +307,8 @@ public final class LanguageTest {
     says("parse arg +", " 20 at 0");
     says("parse arg (", " 20 at 0");
     says("procedure expose", " 20 at 0");
+    says("procedure a b", " 20 at 0");
+    says("procedure expose a.1", " 20 at 0");
     says("do i = 1 to", " 20 at 0");
     says("do i = 1 by 1 to 2;end", " 20 at 0");
     says("do 1 to 2;end", " 26 at 0");

@@ -49,8 +49,31 @@ public final class OracleTest {
     return text.length() > 60 ? text.substring(0, 60) : text;
   }
 
+  /** An operator between two numbers of all sizes. */
+  private static String sumText(Random random) {
+    String[] operators = {"+", "-", "*", "/", "%", "//", "**", "=", "<"};
+    String operator = operators[random.nextInt(operators.length)];
+    String right = operator.equals("**") ? (random.nextBoolean() ? "-" : "") + random.nextInt(100)
+        : number(random);
+    return number(random) + operator + right;
+  }
+
+  private static String number(Random random) {
+    StringBuilder b = new StringBuilder();
+    int size = 1 + random.nextInt(random.nextBoolean() ? 4 : 22);
+    int dot = random.nextInt(3) == 0 ? random.nextInt(size + 1) : -1;
+    int kind = random.nextInt(4);
+    for (int i = 0; i < size; i++) {
+      b.append(i == dot ? "." : "");
+      b.append(kind == 0 ? 9 : kind == 1 && i > 0 ? 0 : random.nextInt(10));
+    }
+    b.append(random.nextInt(4) == 0 ? "e" + (random.nextInt(199) - 99) : "");
+    return "'" + (random.nextInt(3) == 0 ? "-" : "") + b + "'";
+  }
+
   private static void expression(Random random) {
-    String text = expressionText(random);
+    String text = random.nextInt(3) == 0 ? expressionText(random) : sumText(random);
+    text = random.nextInt(4) == 0 ? new Maker(random).spoilt(text) : text;
     int digits = 1 + random.nextInt(20);
     Oracle oracle = new Oracle(new ArrayList<>(), new ArrayList<>(), 0);
     String due;
@@ -81,6 +104,12 @@ public final class OracleTest {
   private static String program(Random random) {
     Maker maker = new Maker(random);
     List<String> lines = maker.program();
+    if (random.nextInt(4) == 0) {
+      for (int i = random.nextInt(4); i >= 0; i--) {
+        int line = random.nextInt(lines.size());
+        lines.set(line, maker.spoilt(lines.get(line)));
+      }
+    }
     List<String> arguments = new ArrayList<>();
     for (int i = random.nextInt(5); i > 0; i--) {
       arguments.add(maker.plainText());
@@ -1696,6 +1725,22 @@ public final class OracleTest {
         fitting.add(fit(line, 60));
       }
       return fitting;
+    }
+
+    /** The text with a sign or two taken away, put in, or put elsewhere. */
+    String spoilt(String text) {
+      String all = "abeiotwx0159 .,=+-*/%&|~<>()':";
+      StringBuilder b = new StringBuilder(text);
+      for (int i = random.nextInt(3); i >= 0; i--) {
+        int at = random.nextInt(b.length() + 1);
+        char sign = all.charAt(random.nextInt(all.length()));
+        if (random.nextBoolean()) {
+          b.insert(at, sign);
+        } else if (at < b.length()) {
+          b.deleteCharAt(at);
+        }
+      }
+      return fit(b.toString(), 60);
     }
 
     static String fit(String text, int most) {
