@@ -253,6 +253,10 @@ public final class LanguageTest {
     gives("copies('ab', 101)", "error 45");
     gives("copies('', '9e9')", "");
     gives("pos('c', 'abcabc')", "3");
+    gives("pos('cab', 'abcabc')", "3");
+    gives("pos('bd', 'abcbd')", "4");
+    gives("pos('', 'abc')", "1");
+    gives("pos('a', '')", "0");
     gives("pos('x', 'abc')", "0");
     gives("pos('abcd', 'abc')", "0");
     gives("abs(-1.50)", "1.50");
@@ -449,6 +453,9 @@ public final class LanguageTest {
     says("parse value 'abc' with x 1.5 y", " 26 at 0");
     says("parse value 'a b' with x , y;say x'-'y'-'", "a b--/");
     says("a = 'p q';parse var a a b;say a b", "p q/");
+    says("do i = 1 to 300;parse var u a b;end;say length(copies(i, 3))", "9/");
+    says("parse value '/a' with x '/' y;say x'-'y", "-a/");
+    says("parse value 'abc' with x '' y;say x'-'y", "-abc/");
     says("parse var u a b;say a'-'b'-'", "u--/");
     says("parse value '2 x y' with i a.i b;say a.2 b", "x y/");
     says("parse value 'x' with a. ;say a.1", "x/");
