@@ -2470,13 +2470,13 @@ public final class Rexworth {
         return BAD_ARGUMENT;
       }
       int size = values.sizeOf(from);
-      int begin = 0;
+      int begin = size;
       int seen = 0;
-      while (begin < size && seen < wanted) {
-        if (isWordBegin(from, begin)) {
+      for (int i = 0; i < size && seen < wanted; i++) {
+        if (isWordBegin(from, i)) {
           seen++;
+          begin = seen == wanted ? i : size;
         }
-        begin += seen < wanted ? 1 : 0;
       }
       int end = begin;
       while (end < size && values.sign(from, end) != ' ') {
@@ -2774,9 +2774,12 @@ public final class Rexworth {
 
     /** Ends the innermost one; what was told on in it counts as told on by its caller. */
     void finish() {
-      blockCount = get(FIRST_BLOCK);
-      called -= get(KIND) == CALLED ? 1 : 0;
+      if (count < 1) {
+        return;
+      }
       count--;
+      blockCount = frames[count * FRAME + FIRST_BLOCK];
+      called -= frames[count * FRAME + KIND] == CALLED ? 1 : 0;
       toldOn[0] = Math.min(toldOn[0], called);
       toldOn[1] = Math.min(toldOn[1], called);
     }
@@ -3045,7 +3048,7 @@ public final class Rexworth {
         return;
       }
       fault = 0;
-      while (calls.called > told && calls.count > 1) {
+      for (int i = calls.count; i > 1 && calls.called > told; i--) {
         leaveFrame();
       }
       jump(label);
@@ -3053,12 +3056,17 @@ public final class Rexworth {
 
     /** Goes to a label, which ends all that is under way in the innermost call. */
     private void jump(int label) {
-      while (calls.get(Calls.KIND) == Calls.INTERPRETED && calls.count > 1) {
-        leaveFrame();
-      }
+      leaveInterprets();
       calls.blockCount = calls.get(Calls.FIRST_BLOCK);
       values.truncate(calls.get(Calls.FIRST_ARGUMENT) + calls.get(Calls.ARGUMENTS));
       enter(label);
+    }
+
+    /** Leaves what is interpreted in the innermost call. */
+    private void leaveInterprets() {
+      for (int i = calls.count; i > 1 && calls.get(Calls.KIND) == Calls.INTERPRETED; i--) {
+        leaveFrame();
+      }
     }
 
     private void leaveFrame() {
@@ -3350,7 +3358,7 @@ public final class Rexworth {
         fault = NO_LOOP;
         return;
       }
-      while (calls.blockCount > 0 && !calls.isLoop()) {
+      for (int i = calls.blockCount; i > 0 && !calls.isLoop(); i--) {
         dropBlock();
       }
       if (leave) {
@@ -3451,9 +3459,7 @@ public final class Rexworth {
 
     /** Ends the innermost call, with a value or without one. */
     private void giveBack(boolean isValue) {
-      while (calls.get(Calls.KIND) == Calls.INTERPRETED && calls.count > 1) {
-        leaveFrame();
-      }
+      leaveInterprets();
       if (calls.get(Calls.KIND) == Calls.MAIN) {
         stop(ENDED, 0);
         return;

@@ -44,9 +44,7 @@ public final class OracleTest {
   }
 
   private static String expressionText(Random random) {
-    Maker maker = new Maker(random);
-    String text = maker.expression(3);
-    return text.length() > 60 ? text.substring(0, 60) : text;
+    return new Maker(random).expression(3);
   }
 
   /** An operator between two numbers of all sizes. */
@@ -74,6 +72,7 @@ public final class OracleTest {
   private static void expression(Random random) {
     String text = random.nextInt(3) == 0 ? expressionText(random) : sumText(random);
     text = random.nextInt(4) == 0 ? new Maker(random).spoilt(text) : text;
+    text = text.length() > 60 ? text.substring(0, 60) : text;
     int digits = 1 + random.nextInt(20);
     Oracle oracle = new Oracle(new ArrayList<>(), new ArrayList<>(), 0);
     String due;
