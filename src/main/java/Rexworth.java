@@ -185,7 +185,7 @@ public final class Rexworth {
     if (!isWordTyped()) {
       throw new UnsupportedOperationException("it is no word");
     }
-    return machine.variables.ask(typed, 0, typedCount);
+    return askTyped();
   }
 
   public int valueLength() throws IllegalStateException, UnsupportedOperationException {
@@ -195,7 +195,7 @@ public final class Rexworth {
     if (!isWordTyped()) {
       throw new UnsupportedOperationException("it is no word");
     }
-    machine.variables.ask(typed, 0, typedCount);
+    askTyped();
     return machine.variables.foundSize;
   }
 
@@ -207,7 +207,7 @@ public final class Rexworth {
     if (!isWordTyped()) {
       throw new UnsupportedOperationException("it is no word");
     }
-    machine.variables.ask(typed, 0, typedCount);
+    askTyped();
     if (place < 0 || place >= machine.variables.foundSize) {
       throw new NoSuchElementException("there is no such place");
     }
@@ -339,15 +339,40 @@ public final class Rexworth {
   }
 
   private boolean isWordTyped() {
-    if (typedCount == 0 || !isLetter(typed[0])) {
+    int from = wordBegin();
+    int to = wordEnd();
+    if (from >= to || !isLetter(typed[from])) {
       return false;
     }
-    for (int i = 1; i < typedCount; i++) {
+    for (int i = from + 1; i < to; i++) {
       if (!isOfWord(typed[i])) {
         return false;
       }
     }
     return true;
+  }
+
+  /** Lets the variables find what has the name that is typed, and returns whether it is set. */
+  private boolean askTyped() {
+    int from = wordBegin();
+    return machine.variables.ask(typed, from, wordEnd() - from);
+  }
+
+  // Blanks count in expressions alone, so those round the word that is typed are no part of it.
+  private int wordBegin() {
+    int from = 0;
+    while (from < typedCount && typed[from] == ' ') {
+      from++;
+    }
+    return from;
+  }
+
+  private int wordEnd() {
+    int to = typedCount;
+    while (to > 0 && typed[to - 1] == ' ') {
+      to--;
+    }
+    return to;
   }
 
   private static boolean isLetter(char sign) {

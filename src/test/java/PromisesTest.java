@@ -314,7 +314,9 @@ public final class PromisesTest {
     x.wipe();
     thrown("18 isSet of nothing", x, STATE, x::isSet);
     x.run(20);
-    for (String text : new String[] {"", "1a", "a b", " a", "a ", ".a", "'a'", "a+", "5", "a:", "a(", "."}) {
+    String[] noWords = {"", " ", "   ", "1a", "a b", " a b", "a b ", "x. a", "x .a", ".a", " .a", "'a'", " 'a'", "' a'",
+      "a+", "a +", "5", " 5 ", "a:", "a :", "a(", "a ()", "(a)", "."};
+    for (String text : noWords) {
       x.wipe();
       type(x, text);
       thrown("18 isSet " + text, x, UNSUPPORTED, x::isSet);
@@ -337,6 +339,17 @@ public final class PromisesTest {
     due("18 the stem of an element", value(x, "s.9"), "=7");
     due("18 a dropped element", value(x, "s.2"), "=7");
     due("20 what is typed stays", x.wipe(), 3);
+    due("18 a blank ahead", value(x, " a"), "=5");
+    due("19 a blank behind", value(x, "a "), "=5");
+    due("20 blanks round it", value(x, "   a  "), "=5");
+    due("18 blanks round an element", value(x, "  x.a "), "=two");
+    due("18 blanks round one of a stem", value(x, " s.9 "), "=7");
+    due("19 blanks round what is not set", value(x, " x.c "), "-x.c");
+    due("19 blanks and an empty value", value(x, " b "), "=");
+    thrown("20 no place in blanks", x, NO_ELEMENT, () -> x.valueSign(0));
+    due("18 up to the last sign", value(x, " ".repeat(59) + "a"), "=5");
+    due("18 from the first sign", value(x, "a" + " ".repeat(59)), "=5");
+    due("20 what is typed stays with its blanks", x.wipe(), 60);
     Rexworth inner = ran("a = 1", "call f", "exit", "f:", "procedure expose x.", "a = 2", "x.1 = 3", "exit");
     due("18 the variables of the last clause", value(inner, "a") + value(inner, "x.1"), "=2=3");
     Rexworth back = ran("a = 1", "call f", "exit", "f:", "procedure expose x.", "a = 2", "x.1 = 3", "return");
