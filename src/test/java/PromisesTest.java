@@ -314,8 +314,10 @@ public final class PromisesTest {
     x.wipe();
     thrown("18 isSet of nothing", x, STATE, x::isSet);
     x.run(20);
-    String[] noWords = {"", " ", "   ", "1a", "a b", " a b", "a b ", "x. a", "x .a", ".a", " .a", "'a'", " 'a'", "' a'",
-      "a+", "a +", "5", " 5 ", "a:", "a :", "a(", "a ()", "(a)", "."};
+    String[] noWords = {
+      "", " ", "   ", "1a", "a b", " a b", "a b ", "x. a", "x .a", ".a", " .a", "'a'", " 'a'",
+      "' a'", "a+", "a +", "5", " 5 ", "a:", "a :", "a(", "a ()", "(a)", "."
+    };
     for (String text : noWords) {
       x.wipe();
       type(x, text);
