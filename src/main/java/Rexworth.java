@@ -2650,14 +2650,10 @@ public final class Rexworth {
           same++;
         }
         if (same == size) {
-          lastBegin = begin;
-          from = begin + size;
-          return begin;
+          return part(begin, begin + size);
         }
       }
-      lastBegin = length;
-      from = length;
-      return length;
+      return part(length, length);
     }
 
     /** Goes to a place; tells where what is parted ends, or -1 if the place is not whole. */
@@ -2670,9 +2666,14 @@ public final class Rexworth {
       int place = kind == Code.PLACE ? number - 1
           : kind == Code.FURTHER ? lastBegin + number : lastBegin - number;
       place = Math.max(0, Math.min(place, length));
-      int end = place > from ? place : length;
-      lastBegin = place;
-      from = place;
+      return part(place, place);
+    }
+
+    /** Goes behind a part; tells where what is ahead of it ends, as the part may not be further. */
+    private int part(int begin, int behind) {
+      int end = begin > from ? begin : length;
+      lastBegin = begin;
+      from = behind;
       return end;
     }
 

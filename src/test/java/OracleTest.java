@@ -1366,7 +1366,7 @@ public final class OracleTest {
         }
         if (part.kind == 't') {
           int at = text.indexOf(part.text, from);
-          share(text.substring(from, at < 0 ? text.length() : at), names);
+          share(at > from ? text.substring(from, at) : text.substring(from), names);
           last = at < 0 ? text.length() : at;
           from = at < 0 ? text.length() : at + part.text.length();
         } else {
