@@ -2535,7 +2535,7 @@ public final class Rexworth {
         return TOO_LONG;
       }
       int total = number * size;
-      for (int i = 0; i < total; i++) {
+      for (int i = 0; i < total && size > 0; i++) {
         buffer[i] = values.sign(from, i % size);
       }
       values.truncate(from);

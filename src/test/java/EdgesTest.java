@@ -1,86 +1,10 @@
-import java.math.BigInteger;
 import java.util.NoSuchElementException;
 
 /**
- * The edges that the document names: too small, too large, empty, full, a wrap-around, a refused
- * call. Each method has the sentence that it checks ahead of it, in the order of the document.
+ * The edges that the Terms of the document name: too small, too large, empty, full. Each method has
+ * the sentence that it checks ahead of it, in the order of the document.
  */
-public final class EdgesTest {
-  private static int wrong = 0;
-
-  // ---- how the machine is asked
-
-  private interface Call {
-    Object make();
-  }
-
-  private static void due(String what, Object got, Object want) {
-    if (!got.equals(want)) {
-      wrong++;
-      System.out.println(what + "\n  gives " + got + "\n  due is " + want);
-    }
-  }
-
-  private static String asked(Call call) {
-    try {
-      return "" + call.make();
-    } catch (RuntimeException e) {
-      return e.getClass().getSimpleName();
-    }
-  }
-
-  private static void thrown(String what, Class<?> want, Call call) {
-    due(what, asked(call), want.getSimpleName());
-  }
-
-  private static void type(Rexworth x, String text) {
-    for (char sign : text.toCharArray()) {
-      x.type(sign);
-    }
-  }
-
-  /** A machine with the lines of a program, which are parted by ';'. */
-  private static Rexworth program(String text) {
-    Rexworth x = new Rexworth();
-    for (String line : text.split(";", -1)) {
-      type(x, line);
-      x.line();
-    }
-    return x;
-  }
-
-  private static Rexworth ran(String text) {
-    Rexworth x = program(text);
-    x.run(2000);
-    return x;
-  }
-
-  private static String said(Rexworth x) {
-    StringBuilder b = new StringBuilder();
-    for (int i = 0; i < x.said(); i++) {
-      for (int k = 0; k < x.saidLength(i); k++) {
-        b.append(x.saidSign(i, k));
-      }
-      b.append('/');
-    }
-    return b.toString();
-  }
-
-  private static String ended(Rexworth x) {
-    switch (x.end()) {
-      case 'd': return "";
-      case 'l': return " over " + x.where();
-      default: return " " + x.error() + " at " + x.where();
-    }
-  }
-
-  /** What a program says, with a '/' behind each line, and how it ends, if not well. */
-  private static void says(String text, String want) {
-    Rexworth x = ran(text);
-    due(text, said(x) + ended(x), want);
-    due(text + " is true", x.isTrue(), true);
-  }
-
+public final class EdgesTest extends Asking {
   /** With so many steps: how the program ends, the steps, and how often each line is done. */
   private static void counts(int steps, String text, String want) {
     Rexworth x = program(text);
@@ -97,36 +21,8 @@ public final class EdgesTest {
     counts(2000, text, want);
   }
 
-  /** The value of an expression, or its error, with so many digits. */
-  private static void gives(int digits, String expression, String want) {
-    Rexworth x = new Rexworth();
-    type(x, expression);
-    int size = x.reckon(digits);
-    StringBuilder b = new StringBuilder(size < 0 ? "error " + -size : "");
-    for (int i = 0; i < size; i++) {
-      b.append(x.reckoned(digits, i));
-    }
-    due(expression + " with " + digits + " digits", b.toString(), want);
-  }
-
-  private static void gives(String expression, String want) {
-    gives(9, expression, want);
-  }
-
   private static void none(String expression) {
     gives(expression, "error 20");
-  }
-
-  /** The value of a word as the run ended, behind '=' if it is set, else '-'. */
-  private static String value(Rexworth x, String word) {
-    x.wipe();
-    type(x, word);
-    StringBuilder b = new StringBuilder(x.isSet() ? "=" : "-");
-    for (int i = 0; i < x.valueLength(); i++) {
-      b.append(x.valueSign(i));
-    }
-    x.wipe();
-    return b.toString();
   }
 
   private static String times(String text, int number) {
@@ -299,7 +195,9 @@ public final class EdgesTest {
       "say", "if", "do i =", "do i = 1 to", "do i = 1 by", "do i = to 2", "do while", "do 1 while",
       "do i = 1 while", "call", "call f 1,", "procedure expose", "parse", "parse var", "parse value",
       "parse value with", "parse value 1", "drop", "digits", "signal", "push", "queue", "pull",
-      "interpret", "address"
+      "interpret", "address", "say )", "say (", "if )", "do )", "do (", "do 1 +", "do i = )",
+      "do i = 1 to )", "do i = 1 by )", "do while )", "do 1 while )", "call f )", "return )",
+      "parse value ) with a", "x = )", ")", "digits )", "push )", "queue )", "interpret )"
     };
     for (String line : lines) {
       says(line, " 20 at 0");
@@ -319,6 +217,38 @@ public final class EdgesTest {
     };
     for (String line : lines) {
       says(line, " 20 at 0");
+    }
+  }
+
+  /** All else is a command: a first word that is nearly one of these, too. */
+  private static void wordsThatAreNearlyThese() {
+    String words = "say if else do end leave iterate call return exit procedure parse drop digits "
+        + "signal push queue pull interpret address";
+    for (String word : words.split(" ")) {
+      String less = word.substring(0, word.length() - 1);
+      String[] others = {word + "s", "s" + word, less, less + "q", "q" + word.substring(1),
+          word + ".", word + "1"};
+      for (String other : others) {
+        if (!(" " + words + " ").contains(" " + other + " ")) {
+          Rexworth x = ran(other + " 7");
+          due(other, command(x, 0) + ended(x), "host " + other + " 7");
+        }
+      }
+    }
+    says("if 1;els;end;say rc", "1/");
+    String[] lines = {"parse ark a", "parse brg a", "parse vat a b", "parse valve 1 with a",
+        "parse value 1 wits a", "parse value 1 pith a", "signal of syntax", "signal in syntax",
+        "signal on syntay", "signal on zyntax", "signal on novalu", "procedure expos a",
+        "procedure axpose a", "do i = 1 ti 2 bi 3 whil 1 =", "parse arg1 a"};
+    for (String line : lines) {
+      says(line, " 20 at 0");
+    }
+    says("do i = 1 so 2;end", " 26 at 0");
+    says("do i = 1 to 2 my 3;end", " 26 at 0");
+    says("do 1 whale;end", " 26 at 0");
+    for (String name : new String[] {"lengt", "lengthh", "mength", "lengtg", "wor", "word1", "wordz",
+        "pox", "copie", "mas", "mid", "ab", "substring"}) {
+      gives(name + "(1)", "error 43");
     }
   }
 
@@ -390,6 +320,56 @@ public final class EdgesTest {
 
   // ---- Expressions
 
+  private static final String[] OPERATORS = {
+    "**", "*", "/", "%", "//", "+", "-", "||", " ", "=", "~=", "<", ">", "<=", ">=", "==", "&", "|"
+  };
+  /** Where it makes no difference which one is done first. */
+  private static final String ALIKE = ";**;++;+-;&&;||;";
+  private static final int[] STRENGTHS = {8, 7, 7, 7, 7, 6, 6, 5, 5, 4, 4, 4, 4, 4, 4, 4, 3, 2};
+
+  /** Of two operators the stronger one has the operand between them, the left one if none is. */
+  private static void strengthsOfTwo() {
+    String[] operands = {"0", "1", "2", "7"};
+    for (int i = 0; i < OPERATORS.length; i++) {
+      for (int k = 0; k < OPERATORS.length; k++) {
+        boolean isLeft = STRENGTHS[i] >= STRENGTHS[k];
+        boolean isTold = false;
+        for (int m = 0; m < 64; m++) {
+          String a = operands[m % 4] + OPERATORS[i];
+          String b = operands[m / 4 % 4];
+          String c = OPERATORS[k] + operands[m / 16];
+          String left = worth("(" + a + b + ")" + c);
+          String right = worth(a + "(" + b + c + ")");
+          isTold |= !left.equals(right);
+          due(a + b + c, worth(a + b + c), isLeft ? left : right);
+        }
+        boolean isTheSame = STRENGTHS[i] == 5 && STRENGTHS[k] == 5
+            || ALIKE.contains(";" + OPERATORS[i] + OPERATORS[k] + ";");
+        due(OPERATORS[i] + " and " + OPERATORS[k] + " are told apart", isTold, !isTheSame);
+      }
+    }
+  }
+
+  private static String worth(String expression) {
+    Rexworth x = new Rexworth();
+    type(x, expression);
+    return reckoned(x, 9);
+  }
+
+  /** A prefix is stronger than all operators. */
+  private static void strengthsOfPrefixes() {
+    for (String operator : OPERATORS) {
+      due("- and " + operator, worth("-1" + operator + "2"), worth("(-1)" + operator + "2"));
+      due("+ and " + operator, worth("+1.0" + operator + "2"), worth("(+1.0)" + operator + "2"));
+      due("~ and " + operator, worth("~0" + operator + "2"), worth("(~0)" + operator + "2"));
+      due("~ and " + operator, worth("~1" + operator + "0"), worth("(~1)" + operator + "0"));
+      due(operator + " and ~", worth("1" + operator + "~0"), worth("1" + operator + "(~0)"));
+      if (!operator.equals(" ")) {
+        due(operator + " and -", worth("2" + operator + "-1"), worth("2" + operator + "(-1)"));
+      }
+    }
+  }
+
   /** From the strongest on: prefixes, **, * / % //, + -, texts, comparisons, &, |. */
   private static void strengths() {
     gives("-2**2", "4");
@@ -403,7 +383,7 @@ public final class EdgesTest {
     gives("2+3*4", "14");
     gives("2-3//2", "1");
     gives("1+2||3", "33");
-    gives("1||2+3", "15");
+    gives("1||5+7", "112");
     gives("1||2=12", "1");
     gives("1 2=1||' '||2", "1");
     gives("1=1&0", "0");
@@ -781,6 +761,16 @@ public final class EdgesTest {
     gives("0<-1", "0");
     gives("1>=1.0", "1");
     gives("1<=1.0", "1");
+    gives("1<=2", "1");
+    gives("2<=1", "0");
+    gives("1>=2", "0");
+    gives("2>=1", "1");
+    gives("1<2", "1");
+    gives("2<1", "0");
+    gives("1>2", "0");
+    gives("2>1", "1");
+    gives("1=2", "0");
+    gives("1~=2", "1");
     gives("1~=1.0", "0");
     gives("1<1.0", "0");
     gives("1>1.0", "0");
@@ -819,6 +809,10 @@ public final class EdgesTest {
     gives("''==''", "1");
     gives("''==' '", "0");
     gives("'ab'=='a'", "0");
+    gives("'a'=='b'", "0");
+    gives("'ab'=='ac'", "0");
+    gives("'ab'=='bb'", "0");
+    gives("'abc'=='abc'", "1");
     gives("1==01", "0");
   }
 
@@ -878,6 +872,8 @@ public final class EdgesTest {
     says("x.1 = 1;x. = 5;say x.1 x.2 x.", "5 5 5/");
     says("x. = 5;x.1 = 1;say x.1 x.2 x.", "1 5 5/");
     says("x. = '';say x.1'.'", "./");
+    says("x. = 5;x.1 = '';say x.1'.'", "./");
+    says("x.1 = '';say x.1'.'", "./");
     says("x.1 = 1;say x.2 x.", "x.2 x./");
     says("x. = 5;i = 3;say x.i.i", "5/");
     due("an element of a stem that was set", value(ran("x. = 5"), "x.9"), "=5");
@@ -1126,6 +1122,10 @@ public final class EdgesTest {
     gives("length('')", "0");
     gives("length(' ')", "1");
     gives("length(a)", "1");
+    gives("length(copies('a',9))", "9");
+    gives("length(copies('a',10))", "10");
+    gives("length(copies('a',99))", "99");
+    gives("length(copies('a',100))", "100");
     gives("length(copies('a',200))", "200");
     gives("words('')", "0");
     gives("words(' ')", "0");
@@ -1261,6 +1261,9 @@ public final class EdgesTest {
     says("a = 1;x.1 = 2;call f" + called + " expose a. x" + inner, "a x.1/1 2/");
     says("call f" + called + " expose a x." + inner, "a x.1/3 4/");
     says("a = 1;call f" + called + " expose a a;drop a;return", "a x.1/");
+    says("call f;say a b c d;exit;f:;procedure expose a b c;a = 1;b = 2;c = 3;d = 4;return",
+        "1 2 3 d/");
+    says("call f;say a ab b;exit;f:;procedure expose ab;a = 1;ab = 2;b = 3;return", "a 2 b/");
     says("x. = 1;x.1 = 2;call f" + called + " expose x.;drop x.;return", "a x.1/");
   }
 
@@ -1308,19 +1311,6 @@ public final class EdgesTest {
         " 42 at 2");
     Rexworth x = ran("call f;'a';exit;f:;procedure;address env;return");
     due("the environment of a call", command(x, 0), "env a");
-  }
-
-  private static String command(Rexworth x, int index) {
-    StringBuilder b = new StringBuilder();
-    for (int i = 0; i < 1000; i++) {
-      int place = i;
-      String sign = asked(() -> x.commandSign(index, place));
-      if (sign.length() != 1) {
-        return b.toString();
-      }
-      b.append(sign);
-    }
-    return b.toString();
   }
 
   /** At most 20 calls and interprets are under way together; 45 more than that. */
@@ -1566,6 +1556,9 @@ public final class EdgesTest {
         + "syntax:;say 's'";
     says(twice, "s/");
     due("told on by the caller of the caller", ran(twice).depth(), 0);
+    String other = "call f;call g;exit;f:;signal on novalue;return;g:;say a;novalue:;say 's'";
+    says(other, "s/");
+    due("the second call is left, too", ran(other).depth(), 0);
   }
 
   /** Without a label the run ends by error 16. */
@@ -1645,6 +1638,13 @@ public final class EdgesTest {
     says("a = copies('a', 200);say length(a);b = a||1", "200/ 45 at 2");
     says("i = copies('a', 198);say length(x.i)", "200/");
     says("i = copies('a', 199);say length(x.i)", " 45 at 1");
+    String[] clauses = {"x.i.1 = 1", "x.i.1 = x.i.1", "say x.i.1", "drop x.i.1", "pull x.i.1",
+        "parse var x.i.1 a", "parse value 1 with x.i.1", "do x.i.1 = 1 to 2;end"};
+    for (String clause : clauses) {
+      says("i = copies('a', 199);" + clause, " 45 at 1");
+    }
+    says("do x.i = 1 to 2;i = copies('a', 199);end", " 45 at 0");
+    says("do x.i = 1 to 2;i = copies('a', 201);end", " 45 at 1");
   }
 
   // ---- Others
@@ -1677,23 +1677,6 @@ public final class EdgesTest {
     counts(3, "interpret 'say 1';say 2", "3: 1 1");
     counts("interpret 'call f';exit;f:;return", "4: 1 1 0 1");
     counts("interpret 'say 1/0'", "2: 1 42 at 0");
-  }
-
-  private static String queue(Rexworth x) {
-    StringBuilder b = new StringBuilder();
-    for (int i = 0; i < x.queued(); i++) {
-      for (int k = 0; k < 300; k++) {
-        int index = i;
-        int place = k;
-        String sign = asked(() -> x.queuedSign(index, place));
-        if (sign.length() != 1) {
-          break;
-        }
-        b.append(sign);
-      }
-      b.append('/');
-    }
-    return b.toString();
   }
 
   /** 'push' puts a line at the front of the queue, 'queue' at its end; 'pull' takes the first. */
@@ -1790,447 +1773,39 @@ public final class EdgesTest {
     counts(2000, "f:;signal f", "2000: 0 2000 over 1");
     counts(1999, "do 1000;end", "1999: 1000 999 over 1");
     counts(2, "call f;f:;say 1;return", "2: 1 0 1 0 over 3");
-    due("calls under way as it is over", overAfter(1, "call f;f:;say 1").depth(), 1);
+    due("calls under way as it is over", ran(1, "call f;f:;say 1").depth(), 1);
   }
 
-  private static Rexworth overAfter(int steps, String text) {
-    Rexworth x = program(text);
-    x.run(steps);
-    return x;
-  }
-
-  // ---- Promises
-
-  private static final int[] FAR = {
-    -1, -2, Integer.MIN_VALUE, Integer.MIN_VALUE + 1, Integer.MAX_VALUE, Integer.MAX_VALUE - 1
-  };
-
-  private static final Class<?> STATE = IllegalStateException.class;
-  private static final Class<?> ARGUMENT = IllegalArgumentException.class;
-  private static final Class<?> UNSUPPORTED = UnsupportedOperationException.class;
-  private static final Class<?> NO_ELEMENT = NoSuchElementException.class;
-  private static final Class<?> INDEX = IndexOutOfBoundsException.class;
-
-  /** 1: a machine without lines and arguments; what asks of a run throws, as nothing was run. */
-  private static void promise1() {
+  /** Programs that fill all that there is. */
+  private static void muchOfAll() {
+    says("do i = 1 to 900;x.i = i * i;end;say x.1 x.450 x.900", " over 2");
+    says("do i = 1 to 600;x.i = i * i;end;say x.1 x.450 x.600 x.601", "1 202500 360000 x.601/");
+    says("do i = 1 to 300;a = copies(i, 66);x.i = a;end;say length(x.9) length(x.300) x.9",
+        "66 198 " + times("9", 66) + "/");
+    String line = "a = a '" + times("c", 51) + "'";
     Rexworth x = new Rexworth();
-    due("nothing is typed", x.wipe(), 0);
-    due("no lines", x.clear(), 0);
-    due("no arguments", x.bare(), 0);
-    due("the sum at first", x.checksum(), 7L);
-    due("true at first", x.isTrue(), true);
-    Call[] calls = {
-      x::end, x::error, x::where, x::steps, () -> x.done(0), x::said, () -> x.saidLength(0),
-      () -> x.saidSign(0, 0), x::isSet, x::valueLength, () -> x.valueSign(0), x::queued,
-      () -> x.queuedSign(0, 0), x::commands, () -> x.commandSign(0, 0), x::digits, x::depth,
-      x::doneShare, x::meanSaid
-    };
-    for (int i = 0; i < calls.length; i++) {
-      thrown("nothing was run, call " + i, STATE, calls[i]);
-    }
-    type(x, "a = 1");
+    type(x, "a = ''");
     x.line();
-    thrown("a run that is refused", ARGUMENT, () -> x.run(0));
-    for (int i = 0; i < calls.length; i++) {
-      thrown("still nothing was run, call " + i, STATE, calls[i]);
-    }
-    due("the sum still", x.checksum(), 7L);
-    x.run(1);
-    due("it was run", x.end(), 'd');
-  }
-
-  /** 2: no such sign, ahead of 60 signs. 3: how many there were. */
-  private static void promises2And3() {
-    Rexworth x = new Rexworth();
-    thrown("no sign", ARGUMENT, () -> x.type('A'));
-    due("none is typed", x.wipe(), 0);
-    due("the first sign", x.type('a'), 1);
-    due("one is wiped", x.wipe(), 1);
-    due("the first one again", x.type('b'), 1);
-    x.wipe();
-    type(x, times("c", 59));
-    due("the last sign", x.type('d'), 60);
-    thrown("one too many", STATE, () -> x.type('e'));
-    thrown("one too many, and no sign", ARGUMENT, () -> x.type('E'));
-    due("all are wiped", x.wipe(), 60);
-    due("none is left", x.wipe(), 0);
-    due("and there is room", x.type('f'), 1);
-  }
-
-  /** 4: a line with what is typed, 40 at most. 5: how many there were. 6: a sign of a line. */
-  private static void promises4To6() {
-    Rexworth x = new Rexworth();
-    due("a line of nothing", x.line(), 0);
-    thrown("it has no sign", NO_ELEMENT, () -> x.at(0, 0));
-    type(x, "ab");
-    due("a second line", x.line(), 1);
-    due("which is wiped then", x.wipe(), 0);
-    due("its first sign", x.at(1, 0), 'a');
-    due("its last sign", x.at(1, 1), 'b');
-    thrown("behind it", NO_ELEMENT, () -> x.at(1, 2));
-    thrown("no line 2", INDEX, () -> x.at(2, 0));
-    for (int far : FAR) {
-      thrown("line " + far, INDEX, () -> x.at(far, 0));
-      thrown("place " + far, NO_ELEMENT, () -> x.at(1, far));
-      thrown("line and place " + far, INDEX, () -> x.at(far, far));
-    }
-    for (int i = 2; i < 40; i++) {
+    for (int i = 0; i < 3; i++) {
+      type(x, line);
       x.line();
     }
-    type(x, "abc");
-    thrown("a line too many", STATE, x::line);
-    due("what is typed stays", x.wipe(), 3);
-    due("40 lines are there", x.clear(), 40);
-    due("none is left", x.clear(), 0);
-    thrown("line 0 is gone", INDEX, () -> x.at(0, 0));
-    type(x, "z");
-    due("what is typed stays as lines go", x.clear(), 0);
-    due("the first one again", x.line(), 0);
-    due("its sign", x.at(0, 0), 'z');
-  }
-
-  /** 7: a further argument of runs, 4 at most. 8: how many there were. */
-  private static void promises7And8() {
-    Rexworth x = program("parse arg a, b, c, d, e;say a'-'b'-'c'-'d'-'e'-'");
-    x.run(9);
-    due("no arguments", said(x), "-----/");
-    due("an empty one", x.argument(), 1);
-    for (int i = 2; i <= 4; i++) {
-      type(x, "n " + i);
-      due("argument " + i, x.argument(), i);
-      due("which is wiped then", x.wipe(), 0);
+    x.run(2000);
+    due("three long lines", value(x, "a"), "=" + times(" " + times("c", 51), 3));
+    StringBuilder names = new StringBuilder();
+    for (int i = 0; i < 6; i++) {
+      names.append("n").append(i).append("=-").append(times("+-", 25)).append("1;");
     }
-    type(x, "abc");
-    thrown("one too many", STATE, x::argument);
-    due("what is typed stays", x.wipe(), 3);
-    x.run(9);
-    due("four arguments", said(x), "-n 2-n 3-n 4--/");
-    due("there were four", x.bare(), 4);
-    due("none is left", x.bare(), 0);
-    x.run(9);
-    due("none in a run", said(x), "-----/");
-    type(x, times("g", 60));
-    due("one of 60 signs", x.argument(), 1);
-    x.run(9);
-    due("it has 60", said(x), times("g", 60) + "-----/");
-  }
-
-  /** 9: with nothing set, said, queued or commanded; 1 to 2000 steps; lines are needed. */
-  private static void promise9() {
-    Rexworth x = new Rexworth();
-    thrown("no lines", UNSUPPORTED, () -> x.run(1));
-    thrown("no lines and no steps", ARGUMENT, () -> x.run(0));
-    thrown("no lines and too many steps", ARGUMENT, () -> x.run(2001));
-    type(x, "say a");
-    x.line();
-    thrown("0 steps", ARGUMENT, () -> x.run(0));
-    thrown("2001 steps", ARGUMENT, () -> x.run(2001));
-    for (int far : FAR) {
-      thrown(far + " steps", ARGUMENT, () -> x.run(far));
-    }
-    due("1 step", x.run(1), 'd');
-    due("2000 steps", x.run(2000), 'd');
-    thrown("what is refused", ARGUMENT, () -> x.run(2001));
-    due("leaves the last run", said(x), "a/");
-    Rexworth again = program("say a b.1 rc result;call f;exit;f:;a = 1;b. = 2;queue 3;'c';digits 4;"
-        + "address e;signal on syntax;return 5;syntax:;say 'caught'");
-    for (int i = 0; i < 3; i++) {
-      due("run " + i, again.run(2000), 'd');
-      due("nothing is set", said(again), "a b.1 rc result/");
-      due("nothing is queued or commanded", again.queued() + " " + again.commands(), "1 1");
-      due("in host", command(again, 0), "host c");
-      due("its digits", again.digits(), 4);
-    }
-    type(again, "say 1/0");
-    again.line();
-    again.run(1);
-    due("9 digits at first", again.digits(), 9);
-    due("nothing queued at first", again.queued(), 0);
-  }
-
-  /** 10 to 12: how the last run ended, the number of the error, and the line. */
-  private static void promises10To12() {
-    Rexworth well = ran("say 1");
-    due("d", well.end(), 'd');
-    thrown("no error", NO_ELEMENT, well::error);
-    thrown("it has ended", NO_ELEMENT, well::where);
-    Rexworth failed = ran(";;say 1/0");
-    due("x", failed.end(), 'x');
-    due("the error", failed.error(), 42);
-    due("its line", failed.where(), 2);
-    Rexworth over = overAfter(1, "say 1;;say 2");
-    due("l", over.end(), 'l');
-    thrown("no error as it is over", NO_ELEMENT, over::error);
-    due("the line in which it was over", over.where(), 2);
-    Rexworth caught = ran("signal on syntax;say 1/0;syntax:");
-    due("d as it was caught", caught.end(), 'd');
-    thrown("no error as it was caught", NO_ELEMENT, caught::error);
-    thrown("it has ended as it was caught", NO_ELEMENT, caught::where);
-    due("an error of a called line", ran("call f;exit;f:;say 1/0").where(), 3);
-    due("an error in a line 39", ran(times(";", 39) + "say 1/0").where(), 39);
-  }
-
-  /** 13: how many steps were made. 14: how often a line was done. */
-  private static void promises13And14() {
-    Rexworth x = ran(";say 1;f:");
-    due("one step", x.steps(), 1);
-    due("an empty line", x.done(0), 0);
-    due("a clause", x.done(1), 1);
-    due("a label", x.done(2), 0);
-    thrown("no line 3", INDEX, () -> x.done(3));
-    for (int far : FAR) {
-      thrown("line " + far, INDEX, () -> x.done(far));
-    }
-    x.line();
-    thrown("of the lines as they were run", INDEX, () -> x.done(3));
-    x.clear();
-    due("still of those", x.done(1), 1);
-    due("the most steps", ran("f:;signal f").steps(), 2000);
-    due("no steps", ran("").steps(), 0);
-  }
-
-  /** 15 to 17: lines that were said, their length and their signs. */
-  private static void promises15To17() {
-    Rexworth x = ran("say '';say 'ab';say copies('c', 200)");
-    due("lines said", x.said(), 3);
-    due("an empty one", x.saidLength(0), 0);
-    due("one of two", x.saidLength(1), 2);
-    due("one of 200", x.saidLength(2), 200);
-    thrown("no line 3", NO_ELEMENT, () -> x.saidLength(3));
-    thrown("no sign in the empty one", NO_ELEMENT, () -> x.saidSign(0, 0));
-    due("the first sign", x.saidSign(1, 0), 'a');
-    due("the last sign", x.saidSign(1, 1), 'b');
-    thrown("behind it", NO_ELEMENT, () -> x.saidSign(1, 2));
-    due("the 200th", x.saidSign(2, 199), 'c');
-    thrown("a 201st", NO_ELEMENT, () -> x.saidSign(2, 200));
-    thrown("none in line 3", NO_ELEMENT, () -> x.saidSign(3, 0));
-    for (int far : FAR) {
-      thrown("length of " + far, NO_ELEMENT, () -> x.saidLength(far));
-      thrown("line " + far, NO_ELEMENT, () -> x.saidSign(far, 0));
-      thrown("place " + far, NO_ELEMENT, () -> x.saidSign(1, far));
-    }
-    due("nothing was said", ran("a = 1").said(), 0);
-    due("a thousand lines", ran("do 667;say 1;end").said(), 667);
-  }
-
-  /** 18 to 20: a variable that is typed, as the run ended; it is no word. */
-  private static void promises18To20() {
-    Rexworth x = ran("a = 'xyz';b = '';c. = 5;d.1 = 6;e = 1;drop e");
-    String[][] values = {
-      {"a", "=xyz"}, {"b", "="}, {"c.", "=5"}, {"c.9", "=5"}, {"c.a.b", "=5"}, {"d.1", "=6"},
-      {"d.2", "-d.2"}, {"d.", "-d."}, {"e", "-e"}, {"d.a", "-d.xyz"}, {"d.b", "-d."}, {" a ", "=xyz"},
-      {times("w", 60), "-" + times("w", 60)}, {"a.", "-a."}, {"say", "-say"}
-    };
-    for (String[] pair : values) {
-      due("the value of " + pair[0], value(x, pair[0]), pair[1]);
-    }
-    type(x, "a");
-    due("the first sign", x.valueSign(0), 'x');
-    due("the last sign", x.valueSign(2), 'z');
-    thrown("behind it", NO_ELEMENT, () -> x.valueSign(3));
-    for (int far : FAR) {
-      thrown("place " + far, NO_ELEMENT, () -> x.valueSign(far));
-    }
-    due("what is typed stays", x.wipe(), 1);
-    type(x, "b");
-    thrown("no sign of an empty one", NO_ELEMENT, () -> x.valueSign(0));
-    for (String text : new String[] {"", " ", "1", "1a", ".", ".a", "a b", "'a'", "a=", "a:", "(a)", "-a"}) {
-      x.wipe();
-      type(x, text);
-      thrown("isSet of " + text, UNSUPPORTED, x::isSet);
-      thrown("valueLength of " + text, UNSUPPORTED, x::valueLength);
-      thrown("valueSign of " + text, UNSUPPORTED, () -> x.valueSign(-1));
-    }
-    Rexworth none = program("say 1");
-    thrown("isSet of nothing, nothing run", STATE, none::isSet);
-    thrown("valueLength of nothing, nothing run", STATE, none::valueLength);
-    thrown("valueSign of nothing, nothing run", STATE, () -> none.valueSign(-1));
-  }
-
-  /** 18 to 20: in the variables of the last clause. */
-  private static void variablesOfTheLastClause() {
-    String inner = "a = 1;call f;exit;f:;procedure;a = 2;b = 3;";
-    due("as it exits", value(ran(inner + "exit"), "a"), "=2");
-    due("as it fails", value(ran(inner + "say 1/0"), "b"), "=3");
-    due("as it has returned", value(ran(inner + "return"), "a"), "=1");
-    due("what is gone then", value(ran(inner + "return"), "b"), "-b");
-    due("as it is over", value(overAfter(5, inner + "say 1"), "a"), "=2");
-    due("at the last line", value(ran(inner + "say 1"), "a"), "=2");
-    due("exposed", value(ran("a = 1;call f;f:;procedure expose a;a = 2"), "a"), "=2");
-    due("not exposed", value(ran("a = 1;call f;f:;procedure expose b"), "a"), "-a");
-    due("of a tail", value(ran("i = 1;x.1 = 5;call f;f:;procedure expose x."), "x.i"), "-x.i");
-  }
-
-  /** 21 and 22: lines that wait. 23 and 24: commands. */
-  private static void promises21To24() {
-    Rexworth x = ran("queue 'ab';queue '';'cd';address e;''");
-    due("lines that wait", x.queued(), 2);
-    due("the first sign", x.queuedSign(0, 0), 'a');
-    due("the last sign", x.queuedSign(0, 1), 'b');
-    thrown("behind it", NO_ELEMENT, () -> x.queuedSign(0, 2));
-    thrown("none in an empty one", NO_ELEMENT, () -> x.queuedSign(1, 0));
-    thrown("no line 2", NO_ELEMENT, () -> x.queuedSign(2, 0));
-    due("commands", x.commands(), 2);
-    due("the first sign of a command", x.commandSign(0, 0), 'h');
-    due("the last one", x.commandSign(0, 6), 'd');
-    thrown("behind that", NO_ELEMENT, () -> x.commandSign(0, 7));
-    due("the blank of an empty one", x.commandSign(1, 1), ' ');
-    thrown("behind the blank", NO_ELEMENT, () -> x.commandSign(1, 2));
-    thrown("no command 2", NO_ELEMENT, () -> x.commandSign(2, 0));
-    for (int far : FAR) {
-      thrown("queued line " + far, NO_ELEMENT, () -> x.queuedSign(far, 0));
-      thrown("queued place " + far, NO_ELEMENT, () -> x.queuedSign(0, far));
-      thrown("command " + far, NO_ELEMENT, () -> x.commandSign(far, 0));
-      thrown("command place " + far, NO_ELEMENT, () -> x.commandSign(0, far));
-    }
-    Rexworth none = ran("a = 1");
-    due("none waits", none.queued(), 0);
-    due("no commands", none.commands(), 0);
-    thrown("no line 0", NO_ELEMENT, () -> none.queuedSign(0, 0));
-    thrown("no command 0", NO_ELEMENT, () -> none.commandSign(0, 0));
-    due("the 205th sign", ran("copies('a', 200)").commandSign(0, 204), 'a');
-    thrown("a 206th", NO_ELEMENT, () -> ran("copies('a', 200)").commandSign(0, 205));
-  }
-
-  /** 25: how many digits were set. 26: how many calls were under way. */
-  private static void promises25And26() {
-    due("digits at first", ran("say 1").digits(), 9);
-    due("1 digit", ran("digits 1").digits(), 1);
-    due("20 digits", ran("digits 20").digits(), 20);
-    due("as 21 are refused", ran("digits 3;digits 21").digits(), 3);
-    due("as 0 are refused", ran("digits 3;digits 0").digits(), 3);
-    due("no call", ran("say 1").depth(), 0);
-    due("one call", ran("call f;f:").depth(), 1);
-    due("a function", ran("say f();f:;exit").depth(), 1);
-    due("20 calls", ran("f:;call f").depth(), 20);
-    due("one that has returned", ran("call f;exit;f:;return").depth(), 0);
-    due("an interpret is no call", ran("interpret 'exit'").depth(), 0);
-    due("a call of an interpret", ran("interpret 'call f';f:;exit").depth(), 1);
-  }
-
-  /** 27 and 28: an expression that is typed, with 1 to 20 digits. */
-  private static void promises27And28() {
-    Rexworth x = new Rexworth();
-    due("nothing is none", x.reckon(9), -20);
-    thrown("nothing has no sign", NO_ELEMENT, () -> x.reckoned(9, 0));
-    type(x, "1/3");
-    due("1 digit", x.reckon(1), 3);
-    due("20 digits", x.reckon(20), 22);
-    due("the first sign", x.reckoned(20, 0), '0');
-    due("the last sign", x.reckoned(20, 21), '3');
-    thrown("behind it", NO_ELEMENT, () -> x.reckoned(20, 22));
-    thrown("0 digits", ARGUMENT, () -> x.reckon(0));
-    thrown("21 digits", ARGUMENT, () -> x.reckon(21));
-    thrown("0 digits, a sign", ARGUMENT, () -> x.reckoned(0, 0));
-    thrown("21 digits, a sign", ARGUMENT, () -> x.reckoned(21, 0));
-    for (int far : FAR) {
-      thrown(far + " digits", ARGUMENT, () -> x.reckon(far));
-      thrown(far + " digits, a sign", ARGUMENT, () -> x.reckoned(far, 0));
-      thrown("place " + far, NO_ELEMENT, () -> x.reckoned(9, far));
-      thrown("digits and place " + far, ARGUMENT, () -> x.reckoned(far, far));
-    }
-    due("what is typed stays", x.wipe(), 3);
-    type(x, "''");
-    due("no signs", x.reckon(9), 0);
-    thrown("no sign", NO_ELEMENT, () -> x.reckoned(9, 0));
-    x.wipe();
-    type(x, "copies(1,200)");
-    due("200 signs", x.reckon(9), 200);
-    due("the 200th", x.reckoned(9, 199), '1');
-    thrown("a 201st", NO_ELEMENT, () -> x.reckoned(9, 200));
-    x.wipe();
-    type(x, "copies(1,201)");
-    due("201 signs", x.reckon(9), -45);
-    thrown("of 201 signs", NO_ELEMENT, () -> x.reckoned(9, 0));
-    thrown("nothing was run by it", STATE, x::end);
-    Rexworth after = ran("a = 5;digits 3;exit;f:;return 1");
-    type(after, "a 1/3");
-    due("nothing is set, with other digits", after.reckon(5), 9);
-    after.wipe();
-    type(after, "f()");
-    due("no lines are there", after.reckon(9), -43);
-    due("the digits of the run stay", after.digits(), 3);
-    due("its variables, too", value(after, "a"), "=5");
-  }
-
-  /** The sum over a run as it would be without an end. */
-  private static BigInteger sumOf(Rexworth x) {
-    BigInteger sum = BigInteger.valueOf(7);
-    BigInteger many = BigInteger.valueOf(31);
-    for (int i = 0; i < x.said(); i++) {
-      for (int k = 0; k < x.saidLength(i); k++) {
-        sum = sum.multiply(many).add(BigInteger.valueOf(x.saidSign(i, k)));
-      }
-      sum = sum.multiply(many).add(BigInteger.valueOf(x.saidLength(i)));
-    }
-    return sum.multiply(many).add(BigInteger.valueOf(x.steps()));
-  }
-
-  /** 29: a sum over the last run, which wraps around. */
-  private static void promise29() {
-    due("nothing said, no steps", ran("").checksum(), 7L * 31);
-    due("nothing said", ran("a = 1").checksum(), 7L * 31 + 1);
-    due("nothing but an empty line", ran("say ''").checksum(), 7L * 31 * 31 + 1);
-    due("a sign", ran("say 'a'").checksum(), ((7L * 31 + 'a') * 31 + 1) * 31 + 1);
-    Rexworth least = ran("say copies('z', 9)");
-    due("a sum that is no wrap-around", sumOf(least).bitLength() < 64, true);
-    due("nine signs", least.checksum(), sumOf(least).longValue());
-    String[] programs = {
-      "say copies('z', 11)", "say copies('z', 12)", "say copies('z', 13)", "say copies('z', 200)",
-      "do i = 1 to 300;say i;end", "say 100/3;say '';say 1/0", "do i = 1;say copies(i, 9);end"
-    };
-    for (String text : programs) {
-      Rexworth x = ran(text);
-      due("beyond a long: " + text, sumOf(x).bitLength() > 63, true);
-      due("the sum of " + text, x.checksum(), sumOf(x).longValue());
-    }
-  }
-
-  /** 30: the share of lines that were done. 31: the mean number of signs of lines said. */
-  private static void promises30And31() {
-    due("none of one", ran("").doneShare(), 0f);
-    due("one of one", ran("say 1").doneShare(), 1f);
-    due("one of three", ran("exit;;say 1").doneShare(), 1f / 3f);
-    due("one of 40", ran("exit" + times(";", 39)).doneShare(), 1f / 40f);
-    due("one that was done often", ran("f:;signal f").doneShare(), 0.5f);
-    due("as it failed", ran("say;say 1").doneShare(), 0.5f);
-    thrown("nothing was said", ArithmeticException.class, () -> ran("a = 1").meanSaid());
-    due("an empty line was said", ran("say ''").meanSaid(), 0.0);
-    due("200 signs", ran("say copies('a', 200)").meanSaid(), 200.0);
-    due("a third", ran("say '';say '';say 1").meanSaid(), 1.0 / 3.0);
-    due("two thirds", ran("say '';say 1;say 1").meanSaid(), 2.0 / 3.0);
-    Rexworth x = ran("say 'abc';exit;say 1");
-    x.clear();
-    x.line();
-    due("of lines as they were run", x.doneShare(), 2f / 3f);
-    due("of what was said then", x.meanSaid(), 3.0);
-  }
-
-  /** 32: the last run is made again with its lines, arguments and steps. */
-  private static void promise32() {
-    due("nothing was run", program("say 1").isTrue(), true);
-    due("a run that is over", overAfter(7, "do i = 1;say i;end").isTrue(), true);
-    due("a run that failed", ran("say 1/0").isTrue(), true);
-    due("steps of what was interpreted", ran("do 9;interpret 'say 1';end").isTrue(), true);
-    due("a text of 200 signs", ran("say copies('a', 200)").isTrue(), true);
-    Rexworth x = program("parse arg a;say a;do i = 1;say i;end");
-    type(x, "one");
-    x.argument();
-    x.run(9);
-    x.clear();
-    x.bare();
-    type(x, "say 2");
-    x.line();
-    type(x, "two");
-    x.argument();
-    due("with the lines and arguments of the run", x.isTrue(), true);
-    due("which stays as it was", said(x) + ended(x), "one/1/2/ over 3");
-    thrown("a run that is refused", ARGUMENT, () -> x.run(0));
-    due("with the steps of the run", x.isTrue(), true);
-    type(x, "1/0");
-    x.reckon(1);
-    due("as an expression was reckoned", x.isTrue(), true);
-    due("again", x.isTrue(), true);
+    says(names + "say n0 n5", "1 1/");
+    says("b = copies('y ', 100);interpret 'parse var b' copies('x ', 60);say length(x)", "82/");
+    says("q = copies('(', 90);r = copies(')', 90);interpret 'a ='q||1||r;say a", "1/");
+    says("q = copies('-', 190);interpret 'a ='q||1;say a", "1/");
+    says("q = copies('f(', 20);r = copies(')', 20);interpret 'a ='q||1||r;say a;exit;f:;return 5",
+        "5/");
+    says("q = copies('1,', 90);interpret 'call f' q||2;exit;f:;parse arg a, b;say a b;return",
+        "1 1/");
+    says("do 9;do 9;do 9;do 9;do 9;do 9;do 9;do 9;do 9;do 9;do 9;do 9;do 9;do 9;do 9;do 9;do 9"
+        + ";say 1;exit" + times(";end", 17), "1/");
   }
 
   // ---- all of them
@@ -2248,10 +1823,13 @@ public final class EdgesTest {
     assignments();
     clausesTooShort();
     clausesTooLong();
+    wordsThatAreNearlyThese();
     signalsTold();
     argumentsOfCalls();
     elementsAndStemsAsNames();
     wordsThatEndExpressions();
+    strengthsOfTwo();
+    strengthsOfPrefixes();
     strengths();
     textsPutTogether();
     fromLeftToRight();
@@ -2354,25 +1932,7 @@ public final class EdgesTest {
     whatIsAStep();
     dosAreSteps();
     runsThatAreOver();
-  }
-
-  private static void promises() {
-    promise1();
-    promises2And3();
-    promises4To6();
-    promises7And8();
-    promise9();
-    promises10To12();
-    promises13And14();
-    promises15To17();
-    promises18To20();
-    variablesOfTheLastClause();
-    promises21To24();
-    promises25And26();
-    promises27And28();
-    promise29();
-    promises30And31();
-    promise32();
+    muchOfAll();
   }
 
   public static void main(String[] args) {
@@ -2382,10 +1942,6 @@ public final class EdgesTest {
     termsOfCalls();
     termsOfTemplates();
     termsOfConditionsAndOthers();
-    promises();
-    System.out.println(wrong == 0 ? "all answers are as due" : wrong + " answers are wrong");
-    if (wrong != 0) {
-      System.exit(1);
-    }
+    finish();
   }
 }

@@ -1,68 +1,5 @@
-import java.util.NoSuchElementException;
-
 /** Checks what the terms of the document say of programs, which promise 9 and 27 rest on. */
-public final class LanguageTest {
-  private static int wrong = 0;
-
-  private static void type(Rexworth x, String text) {
-    for (char sign : text.toCharArray()) {
-      x.type(sign);
-    }
-  }
-
-  /** The value of an expression, or its error, with so many digits. */
-  private static void gives(int digits, String expression, String want) {
-    Rexworth x = new Rexworth();
-    type(x, expression);
-    int size = x.reckon(digits);
-    StringBuilder b = new StringBuilder(size < 0 ? "error " + -size : "");
-    for (int i = 0; i < size; i++) {
-      b.append(x.reckoned(digits, i));
-    }
-    due(expression, b.toString(), want);
-  }
-
-  private static void gives(String expression, String want) {
-    gives(9, expression, want);
-  }
-
-  private static void due(String what, String got, String want) {
-    if (!got.equals(want)) {
-      wrong++;
-      System.out.println(what + "\n  gives " + got + "\n  due is " + want);
-    }
-  }
-
-  /** What a program, its lines parted by ';', says, with a '/' behind each, and how it ends. */
-  private static void says(String program, String want, String... arguments) {
-    saysWithin(2000, program, want, arguments);
-  }
-
-  private static void saysWithin(int steps, String program, String want, String... arguments) {
-    Rexworth x = new Rexworth();
-    for (String line : program.split(";", -1)) {
-      type(x, line.trim());
-      x.line();
-    }
-    for (String argument : arguments) {
-      type(x, argument);
-      x.argument();
-    }
-    StringBuilder b = new StringBuilder();
-    char end = x.run(steps);
-    for (int i = 0; i < x.said(); i++) {
-      for (int k = 0; k < x.saidLength(i); k++) {
-        b.append(x.saidSign(i, k));
-      }
-      b.append('/');
-    }
-    b.append(end == 'd' ? "" : end == 'l' ? " over " + x.where() : " " + x.error() + " at " + x.where());
-    due(program, b.toString(), want);
-    if (!x.isTrue()) {
-      due(program + " is true", "false", "true");
-    }
-  }
-
+public final class LanguageTest extends Asking {
   private static void operators() {
     gives("2 + 3 * 4", "14");
     gives("(2 + 3) * 4", "20");
@@ -534,18 +471,6 @@ public final class LanguageTest {
     templates();
     conditions();
     others();
-    due("9 and 27 are asked of new objects", asksNothing(), "none");
-    System.out.println(wrong == 0 ? "all answers are as due" : wrong + " answers are wrong");
-    if (wrong != 0) {
-      System.exit(1);
-    }
-  }
-
-  private static String asksNothing() {
-    try {
-      return "" + new Rexworth().reckoned(9, 0);
-    } catch (NoSuchElementException e) {
-      return "none";
-    }
+    finish();
   }
 }

@@ -1,32 +1,14 @@
+import java.math.BigInteger;
 import java.util.NoSuchElementException;
 
-/** At least one check for each promise: ordinary inputs, edges and wrong inputs. */
-public final class PromisesTest {
-  private static int wrong = 0;
-
-  private static void due(String what, Object got, Object want) {
-    if (!got.equals(want)) {
-      wrong++;
-      System.out.println(what + " answered " + got + ", due is " + want);
-    }
-  }
-
-  private interface Call {
-    Object make();
-  }
-
-  /** The call throws just this exception, and nothing of the object changes by it. */
-  private static void thrown(String what, Rexworth x, Class<?> want, Call call) {
-    String before = state(x);
-    String got = "nothing";
-    try {
-      call.make();
-    } catch (RuntimeException e) {
-      got = e.getClass().getSimpleName();
-    }
-    due(what + " throws", got, want.getSimpleName());
-    due(what + " leaves the state", state(x), before);
-  }
+/**
+ * The promises by their numbers: ordinary calls, the edges of what they are given, and calls that
+ * are refused, which throw what is listed first and change nothing.
+ */
+public final class PromisesTest extends Asking {
+  private static final int[] FAR = {
+    -1, -2, Integer.MIN_VALUE, Integer.MIN_VALUE + 1, Integer.MAX_VALUE, Integer.MAX_VALUE - 1
+  };
 
   private static final Class<?> STATE = IllegalStateException.class;
   private static final Class<?> ARGUMENT = IllegalArgumentException.class;
@@ -34,479 +16,493 @@ public final class PromisesTest {
   private static final Class<?> NO_ELEMENT = NoSuchElementException.class;
   private static final Class<?> INDEX = IndexOutOfBoundsException.class;
 
-  private static void type(Rexworth x, String text) {
-    for (char sign : text.toCharArray()) {
-      x.type(sign);
-    }
-  }
-
-  private static Rexworth program(String... lines) {
-    Rexworth x = new Rexworth();
-    for (String line : lines) {
-      type(x, line);
-      x.line();
-    }
-    return x;
-  }
-
-  private static Rexworth ran(String... lines) {
-    Rexworth x = program(lines);
-    x.run(2000);
-    return x;
-  }
-
-  private static String said(Rexworth x) {
-    StringBuilder b = new StringBuilder();
-    for (int i = 0; i < x.said(); i++) {
-      for (int k = 0; k < x.saidLength(i); k++) {
-        b.append(x.saidSign(i, k));
-      }
-      b.append('/');
-    }
-    return b.toString();
-  }
-
-  private static String queued(Rexworth x, int index) {
-    StringBuilder b = new StringBuilder();
-    try {
-      while (b.length() < 1000) {
-        b.append(x.queuedSign(index, b.length()));
-      }
-    } catch (NoSuchElementException e) {
-      return b.toString();
-    }
-    return b.toString();
-  }
-
-  private static String command(Rexworth x, int index) {
-    StringBuilder b = new StringBuilder();
-    try {
-      while (b.length() < 1000) {
-        b.append(x.commandSign(index, b.length()));
-      }
-    } catch (NoSuchElementException e) {
-      return b.toString();
-    }
-    return b.toString();
-  }
-
-  private static String value(Rexworth x, String word) {
-    x.wipe();
-    type(x, word);
-    StringBuilder b = new StringBuilder(x.isSet() ? "=" : "-");
-    for (int i = 0; i < x.valueLength(); i++) {
-      b.append(x.valueSign(i));
-    }
-    return b.toString();
-  }
-
-  private static String asked(Call call) {
-    try {
-      return "" + call.make();
-    } catch (RuntimeException e) {
-      return e.getClass().getSimpleName();
-    }
+  /** The call throws just this exception, and nothing of the object changes by it. */
+  private static void refused(String what, Rexworth x, Class<?> want, Call call) {
+    String before = state(x);
+    thrown(what, want, call);
+    due(what + " leaves the state", state(x), before);
   }
 
   /** All that can be asked without changing anything. */
   private static String state(Rexworth x) {
     StringBuilder b = new StringBuilder();
-    for (int i = 0; i < 41; i++) {
+    boolean isLine = true;
+    for (int i = 0; i < 41 && isLine; i++) {
       int line = i;
-      for (int k = 0; k < 61; k++) {
+      String sign = asked(() -> x.at(line, 0));
+      isLine = !sign.equals("IndexOutOfBoundsException");
+      for (int k = 1; sign.length() == 1; k++) {
         int place = k;
-        String sign = asked(() -> x.at(line, place));
-        b.append(sign.length() > 1 ? sign.substring(0, 1) + ";" : sign);
+        b.append(sign);
+        sign = asked(() -> x.at(line, place));
       }
-      b.append(asked(() -> x.done(line)));
+      b.append(';').append(asked(() -> x.done(line)));
     }
     b.append(asked(x::end)).append(asked(x::error)).append(asked(x::where)).append(asked(x::steps));
     b.append(asked(() -> said(x))).append(asked(x::isSet)).append(asked(x::valueLength));
-    b.append(asked(x::queued)).append(asked(x::commands)).append(asked(x::digits));
+    b.append(asked(() -> queue(x))).append(asked(x::commands)).append(asked(x::digits));
     b.append(asked(x::depth)).append(asked(x::checksum)).append(asked(x::doneShare));
     b.append(asked(x::meanSaid)).append(asked(() -> x.reckon(9))).append(asked(x::isTrue));
     return b.toString();
   }
 
-  // ---- what can be asked before anything is run
-
-  private static void aNewObject() {
+  /** 1: a machine without lines and arguments; what asks of a run throws, as nothing was run. */
+  private static void promise1() {
     Rexworth x = new Rexworth();
-    due("1 wipe", x.wipe(), 0);
-    due("1 clear", x.clear(), 0);
-    due("1 bare", x.bare(), 0);
-    due("1 checksum", x.checksum(), 7L);
-    due("1 isTrue", x.isTrue(), true);
-    thrown("1 at", x, INDEX, () -> x.at(0, 0));
-    thrown("1 run", x, UNSUPPORTED, () -> x.run(1));
-    Rexworth other = program("say 1");
-    other.run(10);
-    due("1 another object is another machine", x.clear(), 0);
+    due("nothing is typed", x.wipe(), 0);
+    due("no lines", x.clear(), 0);
+    due("no arguments", x.bare(), 0);
+    due("the sum at first", x.checksum(), 7L);
+    due("true at first", x.isTrue(), true);
+    Call[] calls = {
+      x::end, x::error, x::where, x::steps, () -> x.done(0), x::said, () -> x.saidLength(0),
+      () -> x.saidSign(0, 0), x::isSet, x::valueLength, () -> x.valueSign(0), x::queued,
+      () -> x.queuedSign(0, 0), x::commands, () -> x.commandSign(0, 0), x::digits, x::depth,
+      x::doneShare, x::meanSaid
+    };
+    for (int i = 0; i < calls.length; i++) {
+      refused("nothing was run, call " + i, x, STATE, calls[i]);
+    }
+    type(x, "a = 1");
+    x.line();
+    refused("a run that is refused", x, ARGUMENT, () -> x.run(0));
+    for (int i = 0; i < calls.length; i++) {
+      refused("still nothing was run, call " + i, x, STATE, calls[i]);
+    }
+    due("the sum still", x.checksum(), 7L);
+    x.run(1);
+    due("it was run", x.end(), 'd');
+    Rexworth other = new Rexworth();
+    due("another object is another machine", other.clear() + asked(other::end),
+        "0IllegalStateException");
   }
 
-  private static void typing() {
-    String all = "abcdefghijklmnopqrstuvwxyz0123456789 .,=+-*/%&|~<>()':";
+  /** 2: no such sign, ahead of 60 signs. 3: how many there were. */
+  private static void promises2And3() {
     Rexworth x = new Rexworth();
-    for (int i = 0; i < all.length(); i++) {
-      due("2 type " + all.charAt(i), x.type(all.charAt(i)), i + 1);
-    }
-    for (char sign = 0; sign < 300; sign++) {
-      char one = sign;
-      if (all.indexOf(sign) < 0) {
-        thrown("2 type sign " + (int) sign, x, ARGUMENT, () -> x.type(one));
-      }
-    }
-    thrown("2 type 65535", x, ARGUMENT, () -> x.type('\uffff'));
-    for (int i = all.length(); i < 60; i++) {
-      x.type('a');
-    }
-    thrown("2 type the 61st", x, STATE, () -> x.type('a'));
-    thrown("2 type the 61st, a wrong one", x, ARGUMENT, () -> x.type('A'));
-    due("3 wipe", x.wipe(), 60);
-    due("3 wipe again", x.wipe(), 0);
-    due("2 type behind wipe", x.type('z'), 1);
-  }
-
-  private static void linesAndPlaces() {
-    Rexworth x = new Rexworth();
-    type(x, "say 'a'");
-    due("4 line", x.line(), 0);
-    due("4 line wipes", x.wipe(), 0);
-    due("4 an empty line", x.line(), 1);
-    type(x, "exit");
-    due("4 a third line", x.line(), 2);
-    due("6 at", x.at(0, 0), 's');
-    due("6 at the end", x.at(0, 6), '\'');
-    thrown("6 at behind the end", x, NO_ELEMENT, () -> x.at(0, 7));
-    thrown("6 at ahead", x, NO_ELEMENT, () -> x.at(0, -1));
-    thrown("6 at in an empty line", x, NO_ELEMENT, () -> x.at(1, 0));
-    thrown("6 at no line", x, INDEX, () -> x.at(3, 0));
-    thrown("6 at line -1", x, INDEX, () -> x.at(-1, -1));
-    thrown("6 at the least", x, INDEX, () -> x.at(Integer.MIN_VALUE, Integer.MAX_VALUE));
-    for (int i = 3; i < 40; i++) {
-      x.type('b');
-      due("4 line " + i, x.line(), i);
-    }
-    x.type('c');
-    thrown("4 the 41st line", x, STATE, x::line);
-    due("4 what was typed stays", x.wipe(), 1);
-    due("5 clear", x.clear(), 40);
-    due("5 clear again", x.clear(), 0);
-    thrown("5 at behind clear", x, INDEX, () -> x.at(0, 0));
-    due("4 line behind clear", x.line(), 0);
-  }
-
-  private static void givingArguments() {
-    Rexworth x = program("parse arg a, b, c, d, e", "say a'/'b'/'c'/'d'/'e");
-    type(x, "one two");
-    due("7 argument", x.argument(), 1);
-    due("7 argument wipes", x.wipe(), 0);
-    due("7 an empty argument", x.argument(), 2);
-    type(x, "3");
-    due("7 argument 3", x.argument(), 3);
-    type(x, "4");
-    due("7 argument 4", x.argument(), 4);
-    type(x, "5");
-    thrown("7 argument 5", x, STATE, x::argument);
-    x.run(10);
-    due("7 runs have them", said(x), "one two//3/4//");
-    due("8 bare", x.bare(), 4);
-    due("8 bare again", x.bare(), 0);
-    due("8 the last run had them", said(x), "one two//3/4//");
-    due("8 and is made again with them", x.isTrue(), true);
-    x.run(10);
-    due("8 runs have none", said(x), "/////");
-  }
-
-  private static void running() {
-    Rexworth x = program("a = a 1", "say a queued", "queue a", "'go'", "digits 5", "address b");
-    thrown("9 run 0", x, ARGUMENT, () -> x.run(0));
-    thrown("9 run -1", x, ARGUMENT, () -> x.run(-1));
-    thrown("9 run 2001", x, ARGUMENT, () -> x.run(2001));
-    due("9 run", x.run(2000), 'd');
-    due("9 nothing is set as it begins", said(x), "a 1 queued/");
-    due("9 run again", x.run(6), 'd');
-    due("9 nothing is set as it begins again", said(x) + x.queued() + x.commands(), "a 1 queued/11");
-    due("25 digits", x.digits(), 5);
-    due("9 run 5", x.run(5), 'l');
-    due("25 digits as over", x.digits(), 5);
-    due("9 run 4", x.run(4), 'l');
-    due("25 digits anew", x.digits(), 9);
-    due("9 run 1", x.run(1), 'l');
-    due("12 where over", x.where(), 1);
-    due("9 by an error", program("", "say 1/0").run(9), 'x');
-    Rexworth none = new Rexworth();
-    thrown("9 no lines", none, UNSUPPORTED, () -> none.run(1));
-    thrown("9 no lines, out of range", none, ARGUMENT, () -> none.run(0));
-    due("9 an empty line is one", program("").run(1), 'd');
-    x.run(2000);
-    String before = said(x);
-    x.clear();
-    thrown("9 no lines any more", x, UNSUPPORTED, () -> x.run(1));
-    due("9 the last run stays", said(x) + x.isTrue() + x.done(5), before + "true1");
-    thrown("14 no line 6", x, INDEX, () -> x.done(6));
-  }
-
-  private static void howItEnded() {
-    Rexworth x = program("say 1/0");
-    thrown("10 end", x, STATE, x::end);
-    thrown("11 error", x, STATE, x::error);
-    thrown("12 where", x, STATE, x::where);
-    thrown("13 steps", x, STATE, x::steps);
-    thrown("14 done", x, STATE, () -> x.done(-1));
-    x.run(5);
-    due("10 end x", x.end(), 'x');
-    due("11 error 42", x.error(), 42);
-    due("12 where", x.where(), 0);
-    due("13 steps", x.steps(), 1);
-    due("14 done", x.done(0), 1);
-    thrown("14 done 1", x, INDEX, () -> x.done(1));
-    thrown("14 done -1", x, INDEX, () -> x.done(-1));
-    Rexworth ended = ran("", "f:", "say 1");
-    due("10 end d", ended.end(), 'd');
-    thrown("11 no error", ended, NO_ELEMENT, ended::error);
-    thrown("12 it has ended", ended, NO_ELEMENT, ended::where);
-    due("13 steps of one clause", ended.steps(), 1);
-    due("14 empty lines and labels", ended.done(0) + " " + ended.done(1) + " " + ended.done(2), "0 0 1");
-    Rexworth over = program("do 5", "say 1", "end");
-    over.run(3);
-    due("10 end l", over.end(), 'l');
-    thrown("11 no error as it is over", over, NO_ELEMENT, over::error);
-    due("12 where it was over", over.where(), 0);
-    due("13 steps as it is over", over.steps(), 3);
-    due("14 done over", over.done(0) + " " + over.done(1) + " " + over.done(2), "1 1 1");
-    over.run(4);
-    due("12 where it was over then", over.where() + " " + over.done(0), "1 2");
-    over.run(15);
-    due("10 just enough steps", over.end() + " " + over.steps(), "d 15");
-    over.run(14);
-    due("10 one too few", over.end() + " " + over.where(), "l 2");
-    Rexworth caught = ran("signal on syntax", "say 1/0", "syntax:", "say 2");
-    thrown("11 a caught one is none", caught, NO_ELEMENT, caught::error);
-  }
-
-  private static void whatWasSaid() {
-    Rexworth x = program("say 'ab'", "say ''", "say copies('c', 200)");
-    thrown("15 said", x, STATE, x::said);
-    thrown("16 saidLength", x, STATE, () -> x.saidLength(-1));
-    thrown("17 saidSign", x, STATE, () -> x.saidSign(-1, -1));
-    x.run(10);
-    due("15 said", x.said(), 3);
-    due("16 saidLength 0", x.saidLength(0), 2);
-    due("16 saidLength 1", x.saidLength(1), 0);
-    due("16 saidLength 2", x.saidLength(2), 200);
-    thrown("16 saidLength 3", x, NO_ELEMENT, () -> x.saidLength(3));
-    thrown("16 saidLength -1", x, NO_ELEMENT, () -> x.saidLength(-1));
-    due("17 saidSign", x.saidSign(0, 1), 'b');
-    due("17 saidSign the last", x.saidSign(2, 199), 'c');
-    thrown("17 behind", x, NO_ELEMENT, () -> x.saidSign(0, 2));
-    thrown("17 ahead", x, NO_ELEMENT, () -> x.saidSign(0, -1));
-    thrown("17 in an empty one", x, NO_ELEMENT, () -> x.saidSign(1, 0));
-    thrown("17 of none", x, NO_ELEMENT, () -> x.saidSign(3, 0));
-  }
-
-  private static void variables() {
-    Rexworth x = program("a = 5", "x.a = 'two'", "s. = 7", "s.1 = 8", "drop s.2", "b = ''");
-    type(x, "a");
-    thrown("18 isSet", x, STATE, x::isSet);
-    thrown("19 valueLength", x, STATE, x::valueLength);
-    thrown("20 valueSign", x, STATE, () -> x.valueSign(0));
+    refused("no sign", x, ARGUMENT, () -> x.type('A'));
+    due("none is typed", x.wipe(), 0);
+    due("the first sign", x.type('a'), 1);
+    due("one is wiped", x.wipe(), 1);
+    due("the first one again", x.type('b'), 1);
     x.wipe();
-    thrown("18 isSet of nothing", x, STATE, x::isSet);
-    x.run(20);
+    type(x, "c".repeat(59));
+    due("the last sign", x.type('d'), 60);
+    refused("one too many", x, STATE, () -> x.type('e'));
+    refused("one too many, and no sign", x, ARGUMENT, () -> x.type('E'));
+    due("all are wiped", x.wipe(), 60);
+    due("none is left", x.wipe(), 0);
+    due("and there is room", x.type('f'), 1);
+  }
+
+  /** 4: a line with what is typed, 40 at most. 5: how many there were. 6: a sign of a line. */
+  private static void promises4To6() {
+    Rexworth x = new Rexworth();
+    due("a line of nothing", x.line(), 0);
+    refused("it has no sign", x, NO_ELEMENT, () -> x.at(0, 0));
+    type(x, "ab");
+    due("a second line", x.line(), 1);
+    due("which is wiped then", x.wipe(), 0);
+    due("its first sign", x.at(1, 0), 'a');
+    due("its last sign", x.at(1, 1), 'b');
+    refused("behind it", x, NO_ELEMENT, () -> x.at(1, 2));
+    refused("no line 2", x, INDEX, () -> x.at(2, 0));
+    for (int far : FAR) {
+      refused("line " + far, x, INDEX, () -> x.at(far, 0));
+      refused("place " + far, x, NO_ELEMENT, () -> x.at(1, far));
+      refused("line and place " + far, x, INDEX, () -> x.at(far, far));
+    }
+    for (int i = 2; i < 40; i++) {
+      x.line();
+    }
+    type(x, "abc");
+    refused("a line too many", x, STATE, x::line);
+    due("what is typed stays", x.wipe(), 3);
+    due("40 lines are there", x.clear(), 40);
+    due("none is left", x.clear(), 0);
+    refused("line 0 is gone", x, INDEX, () -> x.at(0, 0));
+    type(x, "z");
+    due("what is typed stays as lines go", x.clear(), 0);
+    due("the first one again", x.line(), 0);
+    due("its sign", x.at(0, 0), 'z');
+  }
+
+  /** 7: a further argument of runs, 4 at most. 8: how many there were. */
+  private static void promises7And8() {
+    Rexworth x = program("parse arg a, b, c, d, e;say a'-'b'-'c'-'d'-'e'-'");
+    x.run(9);
+    due("no arguments", said(x), "-----/");
+    due("an empty one", x.argument(), 1);
+    for (int i = 2; i <= 4; i++) {
+      type(x, "n " + i);
+      due("argument " + i, x.argument(), i);
+      due("which is wiped then", x.wipe(), 0);
+    }
+    type(x, "abc");
+    refused("one too many", x, STATE, x::argument);
+    due("what is typed stays", x.wipe(), 3);
+    x.run(9);
+    due("four arguments", said(x), "-n 2-n 3-n 4--/");
+    due("there were four", x.bare(), 4);
+    due("none is left", x.bare(), 0);
+    x.run(9);
+    due("none in a run", said(x), "-----/");
+    type(x, "g".repeat(60));
+    due("one of 60 signs", x.argument(), 1);
+    x.run(9);
+    due("it has 60", said(x), "g".repeat(60) + "-----/");
+  }
+
+  /** 9: with nothing set, said, queued or commanded; 1 to 2000 steps; lines are needed. */
+  private static void promise9() {
+    Rexworth x = new Rexworth();
+    refused("no lines", x, UNSUPPORTED, () -> x.run(1));
+    refused("no lines and no steps", x, ARGUMENT, () -> x.run(0));
+    refused("no lines and too many steps", x, ARGUMENT, () -> x.run(2001));
+    type(x, "say a");
+    x.line();
+    refused("0 steps", x, ARGUMENT, () -> x.run(0));
+    refused("2001 steps", x, ARGUMENT, () -> x.run(2001));
+    for (int far : FAR) {
+      refused(far + " steps", x, ARGUMENT, () -> x.run(far));
+    }
+    due("1 step", x.run(1), 'd');
+    due("2000 steps", x.run(2000), 'd');
+    refused("what is refused", x, ARGUMENT, () -> x.run(2001));
+    due("leaves the last run", said(x), "a/");
+    Rexworth again = program("say a b.1 rc result;call f;exit;f:;a = 1;b. = 2;queue 3;'c';digits 4;"
+        + "address e;signal on syntax;return 5;syntax:;say 'caught'");
+    for (int i = 0; i < 3; i++) {
+      due("run " + i, again.run(2000), 'd');
+      due("nothing is set", said(again), "a b.1 rc result/");
+      due("nothing is queued or commanded", again.queued() + " " + again.commands(), "1 1");
+      due("in host", command(again, 0), "host c");
+      due("its digits", again.digits(), 4);
+    }
+    type(again, "say 1/0");
+    again.line();
+    again.run(1);
+    due("9 digits at first", again.digits(), 9);
+    due("nothing queued at first", again.queued(), 0);
+    due("nothing commanded at first", again.commands(), 0);
+    due("no condition is on at first", ran("say 1/0;syntax:").error(), 42);
+    again.clear();
+    refused("no lines any more", again, UNSUPPORTED, () -> again.run(1));
+    due("the last run stays", again.end() + said(again), "la b.1 rc result/");
+    due("and is true", again.isTrue(), true);
+    due("an empty line is a line", program("").run(1), 'd');
+  }
+
+  /** 10 to 12: how the last run ended, the number of the error, and the line. */
+  private static void promises10To12() {
+    Rexworth well = ran("say 1");
+    due("d", well.end(), 'd');
+    refused("no error", well, NO_ELEMENT, well::error);
+    refused("it has ended", well, NO_ELEMENT, well::where);
+    Rexworth failed = ran(";;say 1/0");
+    due("x", failed.end(), 'x');
+    due("the error", failed.error(), 42);
+    due("its line", failed.where(), 2);
+    Rexworth over = ran(1, "say 1;;say 2");
+    due("l", over.end(), 'l');
+    refused("no error as it is over", over, NO_ELEMENT, over::error);
+    due("the line in which it was over", over.where(), 2);
+    Rexworth caught = ran("signal on syntax;say 1/0;syntax:");
+    due("d as it was caught", caught.end(), 'd');
+    refused("no error as it was caught", caught, NO_ELEMENT, caught::error);
+    refused("it has ended as it was caught", caught, NO_ELEMENT, caught::where);
+    due("an error of a called line", ran("call f;exit;f:;say 1/0").where(), 3);
+    due("an error in a line 39", ran(";".repeat(39) + "say 1/0").where(), 39);
+  }
+
+  /** 13: how many steps were made. 14: how often a line was done. */
+  private static void promises13And14() {
+    Rexworth x = ran(";say 1;f:");
+    due("one step", x.steps(), 1);
+    due("an empty line", x.done(0), 0);
+    due("a clause", x.done(1), 1);
+    due("a label", x.done(2), 0);
+    refused("no line 3", x, INDEX, () -> x.done(3));
+    for (int far : FAR) {
+      refused("line " + far, x, INDEX, () -> x.done(far));
+    }
+    x.line();
+    refused("of the lines as they were run", x, INDEX, () -> x.done(3));
+    x.clear();
+    due("still of those", x.done(1), 1);
+    due("the most steps", ran("f:;signal f").steps(), 2000);
+    due("no steps", ran("").steps(), 0);
+  }
+
+  /** 15 to 17: lines that were said, their length and their signs. */
+  private static void promises15To17() {
+    Rexworth x = ran("say '';say 'ab';say copies('c', 200)");
+    due("lines said", x.said(), 3);
+    due("an empty one", x.saidLength(0), 0);
+    due("one of two", x.saidLength(1), 2);
+    due("one of 200", x.saidLength(2), 200);
+    refused("no line 3", x, NO_ELEMENT, () -> x.saidLength(3));
+    refused("no sign in the empty one", x, NO_ELEMENT, () -> x.saidSign(0, 0));
+    due("the first sign", x.saidSign(1, 0), 'a');
+    due("the last sign", x.saidSign(1, 1), 'b');
+    refused("behind it", x, NO_ELEMENT, () -> x.saidSign(1, 2));
+    due("the 200th", x.saidSign(2, 199), 'c');
+    refused("a 201st", x, NO_ELEMENT, () -> x.saidSign(2, 200));
+    refused("none in line 3", x, NO_ELEMENT, () -> x.saidSign(3, 0));
+    for (int far : FAR) {
+      refused("length of " + far, x, NO_ELEMENT, () -> x.saidLength(far));
+      refused("line " + far, x, NO_ELEMENT, () -> x.saidSign(far, 0));
+      refused("place " + far, x, NO_ELEMENT, () -> x.saidSign(1, far));
+    }
+    due("nothing was said", ran("a = 1").said(), 0);
+    due("a thousand lines", ran("do 667;say 1;end").said(), 667);
+  }
+
+  /** 18 to 20: a variable that is typed, as the run ended; it is no word. */
+  private static void promises18To20() {
+    Rexworth x = ran("a = 'xyz';b = '';c. = 5;d.1 = 6;e = 1;drop e");
+    String[][] values = {
+      {"a", "=xyz"}, {"b", "="}, {"c.", "=5"}, {"c.9", "=5"}, {"c.a.b", "=5"}, {"d.1", "=6"},
+      {"d.2", "-d.2"}, {"d.", "-d."}, {"e", "-e"}, {"d.a", "-d.xyz"}, {"d.b", "-d."}, {" a ", "=xyz"},
+      {"w".repeat(60), "-" + "w".repeat(60)}, {"a.", "-a."}, {"say", "-say"}, {"a ", "=xyz"},
+      {"  d.1 ", "=6"}, {" c.9 ", "=5"}, {" d.b ", "-d."}, {" b ", "="},
+      {" ".repeat(59) + "a", "=xyz"}, {"a" + " ".repeat(59), "=xyz"}
+    };
+    for (String[] pair : values) {
+      due("the value of " + pair[0], value(x, pair[0]), pair[1]);
+    }
+    x.wipe();
+    type(x, "a");
+    due("the first sign", x.valueSign(0), 'x');
+    due("the last sign", x.valueSign(2), 'z');
+    refused("behind it", x, NO_ELEMENT, () -> x.valueSign(3));
+    for (int far : FAR) {
+      refused("place " + far, x, NO_ELEMENT, () -> x.valueSign(far));
+    }
+    due("what is typed stays", x.wipe(), 1);
+    type(x, "b");
+    refused("no sign of an empty one", x, NO_ELEMENT, () -> x.valueSign(0));
     String[] noWords = {
-      "", " ", "   ", "1a", "a b", " a b", "a b ", "x. a", "x .a", ".a", " .a", "'a'", " 'a'",
-      "' a'", "a+", "a +", "5", " 5 ", "a:", "a :", "a(", "a ()", "(a)", "."
+      "", " ", "   ", "1", " 5 ", "1a", ".", ".a", " .a", "a b", " a b", "a b ", "x. a", "x .a",
+      "'a'", " 'a'", "' a'", "a=", "a+", "a +", "a:", "a :", "(a)", "a(", "a ()", "-a"
     };
     for (String text : noWords) {
       x.wipe();
       type(x, text);
-      thrown("18 isSet " + text, x, UNSUPPORTED, x::isSet);
-      thrown("19 valueLength " + text, x, UNSUPPORTED, x::valueLength);
-      thrown("20 valueSign " + text, x, UNSUPPORTED, () -> x.valueSign(-1));
+      refused("isSet of " + text, x, UNSUPPORTED, x::isSet);
+      refused("valueLength of " + text, x, UNSUPPORTED, x::valueLength);
+      refused("valueSign of " + text, x, UNSUPPORTED, () -> x.valueSign(-1));
     }
-    due("18 a", value(x, "a"), "=5");
-    due("18 c", value(x, "c"), "-c");
-    due("18 b", value(x, "b"), "=");
-    thrown("20 no place", x, NO_ELEMENT, () -> x.valueSign(0));
-    due("18 x.a", value(x, "x.a"), "=two");
-    due("18 x.5", value(x, "x.5"), "=two");
-    thrown("20 behind", x, NO_ELEMENT, () -> x.valueSign(3));
-    thrown("20 ahead", x, NO_ELEMENT, () -> x.valueSign(-1));
-    due("18 x.c", value(x, "x.c"), "-x.c");
-    due("18 x.a.a", value(x, "x.a.a"), "-x.5.5");
-    due("18 x.", value(x, "x."), "-x.");
-    due("18 s.", value(x, "s."), "=7");
-    due("18 s.1", value(x, "s.1"), "=8");
-    due("18 the stem of an element", value(x, "s.9"), "=7");
-    due("18 a dropped element", value(x, "s.2"), "=7");
-    due("20 what is typed stays", x.wipe(), 3);
-    due("18 a blank ahead", value(x, " a"), "=5");
-    due("19 a blank behind", value(x, "a "), "=5");
-    due("20 blanks round it", value(x, "   a  "), "=5");
-    due("18 blanks round an element", value(x, "  x.a "), "=two");
-    due("18 blanks round one of a stem", value(x, " s.9 "), "=7");
-    due("19 blanks round what is not set", value(x, " x.c "), "-x.c");
-    due("19 blanks and an empty value", value(x, " b "), "=");
-    thrown("20 no place in blanks", x, NO_ELEMENT, () -> x.valueSign(0));
-    due("18 up to the last sign", value(x, " ".repeat(59) + "a"), "=5");
-    due("18 from the first sign", value(x, "a" + " ".repeat(59)), "=5");
-    due("20 what is typed stays with its blanks", x.wipe(), 60);
-    Rexworth inner = ran("a = 1", "call f", "exit", "f:", "procedure expose x.", "a = 2", "x.1 = 3", "exit");
-    due("18 the variables of the last clause", value(inner, "a") + value(inner, "x.1"), "=2=3");
-    Rexworth back = ran("a = 1", "call f", "exit", "f:", "procedure expose x.", "a = 2", "x.1 = 3", "return");
-    due("18 the caller's", value(back, "a") + value(back, "x.1") + value(back, "result"), "=1=3-result");
-    Rexworth caught = ran("a = 1", "signal on syntax", "call f", "f:", "procedure", "a = 2", "say 1/0", "syntax:");
-    due("18 as calls are left", value(caught, "a") + caught.depth(), "=10");
-    Rexworth failed = ran("a = 1", "call f", "f:", "procedure", "a = 2", "say 1/0");
-    due("18 as an error ends it", value(failed, "a") + failed.depth(), "=21");
+    Rexworth none = program("say 1");
+    refused("isSet of nothing, nothing run", none, STATE, none::isSet);
+    refused("valueLength of nothing, nothing run", none, STATE, none::valueLength);
+    refused("valueSign of nothing, nothing run", none, STATE, () -> none.valueSign(-1));
   }
 
-  private static void queueAndCommands() {
-    Rexworth x = program("queue 'a'", "push 'bc'", "queue ''", "'go' 1 + 1", "address env.", "foo");
-    thrown("21 queued", x, STATE, x::queued);
-    thrown("22 queuedSign", x, STATE, () -> x.queuedSign(-1, 0));
-    thrown("23 commands", x, STATE, x::commands);
-    thrown("24 commandSign", x, STATE, () -> x.commandSign(-1, 0));
-    x.run(4);
-    due("21 queued", x.queued(), 3);
-    due("22 the queue", queued(x, 0) + "/" + queued(x, 1) + "/" + queued(x, 2), "bc/a/");
-    thrown("22 behind", x, NO_ELEMENT, () -> x.queuedSign(0, 2));
-    thrown("22 ahead", x, NO_ELEMENT, () -> x.queuedSign(0, -1));
-    thrown("22 an empty one", x, NO_ELEMENT, () -> x.queuedSign(2, 0));
-    thrown("22 none", x, NO_ELEMENT, () -> x.queuedSign(3, 0));
-    thrown("22 none ahead", x, NO_ELEMENT, () -> x.queuedSign(-1, 0));
-    due("23 commands", x.commands(), 1);
-    due("24 command", command(x, 0), "host go 2");
-    thrown("24 behind", x, NO_ELEMENT, () -> x.commandSign(0, 9));
-    thrown("24 ahead", x, NO_ELEMENT, () -> x.commandSign(0, -1));
-    thrown("24 none", x, NO_ELEMENT, () -> x.commandSign(1, 0));
-    thrown("24 none ahead", x, NO_ELEMENT, () -> x.commandSign(-1, 0));
-    due("23 rc", value(x, "rc"), "=2");
-    Rexworth most = ran("do i = 1 to 35", "queue i", "i", "end", "push 'lost'");
-    due("21 at most 20", most.queued() + queued(most, 0) + "/" + queued(most, 19), "201/20");
-    due("23 at most 30", most.commands() + command(most, 29), "30host 30");
-    due("23 rc of one that is not kept", value(most, "rc"), "=1");
-    Rexworth pushed = ran("do i = 1 to 25", "push i", "end", "pull a", "pull b.a", "queue 'z'");
-    due("21 pushed at most 20", pushed.queued() + queued(pushed, 0) + queued(pushed, 18), "1918z");
-    due("21 pulled", value(pushed, "a") + value(pushed, "b.20"), "=20=19");
-    Rexworth empty = ran("a = 1", "pull a", "say a'.'");
-    due("21 pulled without one", said(empty), "./");
-    Rexworth named = ran("address mine", "'x y  z'", "''", "address other", "5");
-    due("24 environments", command(named, 0) + "/" + command(named, 1) + "/" + command(named, 2),
-        "mine x y  z/mine /other 5");
+  /** 18 to 20: in the variables of the last clause. */
+  private static void variablesOfTheLastClause() {
+    String inner = "a = 1;call f;exit;f:;procedure;a = 2;b = 3;";
+    due("as it exits", value(ran(inner + "exit"), "a"), "=2");
+    due("as it fails", value(ran(inner + "say 1/0"), "b"), "=3");
+    due("as it has returned", value(ran(inner + "return"), "a"), "=1");
+    due("what is gone then", value(ran(inner + "return"), "b"), "-b");
+    due("as it is over", value(ran(5, inner + "say 1"), "a"), "=2");
+    due("at the last line", value(ran(inner + "say 1"), "a"), "=2");
+    due("exposed", value(ran("a = 1;call f;f:;procedure expose a;a = 2"), "a"), "=2");
+    due("not exposed", value(ran("a = 1;call f;f:;procedure expose b"), "a"), "-a");
+    due("of a tail", value(ran("i = 1;x.1 = 5;call f;f:;procedure expose x."), "x.i"), "-x.i");
   }
 
-  private static void depthAndDigits() {
-    Rexworth x = program("call f", "f:", "call g", "g:", "interpret 'exit'");
-    thrown("25 digits", x, STATE, x::digits);
-    thrown("26 depth", x, STATE, x::depth);
-    x.run(10);
-    due("26 depth", x.depth(), 2);
-    due("25 digits at first", x.digits(), 9);
-    due("26 depth 0", ran("call f", "exit", "f:", "return").depth(), 0);
-    Rexworth many = ran("f:", "call f");
-    due("26 the most", many.depth() + " " + many.error() + " " + many.where() + " " + many.steps(), "20 45 1 21");
-    due("25 digits 20", ran("digits 20").digits(), 20);
-    due("25 digits 1", ran("digits 1").digits(), 1);
-    due("25 digits 21", ran("digits 21").error(), 26);
-    due("25 digits 0", ran("digits 0").error(), 26);
-    due("25 digits by no number", ran("digits a").error(), 26);
-    due("25 digits by no whole number", ran("digits 1.5").error(), 26);
+  /** 21 and 22: lines that wait. 23 and 24: commands. */
+  private static void promises21To24() {
+    Rexworth x = ran("queue 'ab';queue '';'cd';address e;''");
+    due("lines that wait", x.queued(), 2);
+    due("the first sign", x.queuedSign(0, 0), 'a');
+    due("the last sign", x.queuedSign(0, 1), 'b');
+    refused("behind it", x, NO_ELEMENT, () -> x.queuedSign(0, 2));
+    refused("none in an empty one", x, NO_ELEMENT, () -> x.queuedSign(1, 0));
+    refused("no line 2", x, NO_ELEMENT, () -> x.queuedSign(2, 0));
+    due("commands", x.commands(), 2);
+    due("the first sign of a command", x.commandSign(0, 0), 'h');
+    due("the last one", x.commandSign(0, 6), 'd');
+    refused("behind that", x, NO_ELEMENT, () -> x.commandSign(0, 7));
+    due("the blank of an empty one", x.commandSign(1, 1), ' ');
+    refused("behind the blank", x, NO_ELEMENT, () -> x.commandSign(1, 2));
+    refused("no command 2", x, NO_ELEMENT, () -> x.commandSign(2, 0));
+    for (int far : FAR) {
+      refused("queued line " + far, x, NO_ELEMENT, () -> x.queuedSign(far, 0));
+      refused("queued place " + far, x, NO_ELEMENT, () -> x.queuedSign(0, far));
+      refused("command " + far, x, NO_ELEMENT, () -> x.commandSign(far, 0));
+      refused("command place " + far, x, NO_ELEMENT, () -> x.commandSign(0, far));
+    }
+    Rexworth none = ran("a = 1");
+    due("none waits", none.queued(), 0);
+    due("no commands", none.commands(), 0);
+    refused("no line 0", none, NO_ELEMENT, () -> none.queuedSign(0, 0));
+    refused("no command 0", none, NO_ELEMENT, () -> none.commandSign(0, 0));
+    due("the 205th sign", ran("copies('a', 200)").commandSign(0, 204), 'a');
+    thrown("a 206th", NO_ELEMENT, () -> ran("copies('a', 200)").commandSign(0, 205));
   }
 
-  private static void reckoning() {
+  /** 25: how many digits were set. 26: how many calls were under way. */
+  private static void promises25And26() {
+    due("digits at first", ran("say 1").digits(), 9);
+    due("1 digit", ran("digits 1").digits(), 1);
+    due("20 digits", ran("digits 20").digits(), 20);
+    due("as 21 are refused", ran("digits 3;digits 21").digits(), 3);
+    due("as 0 are refused", ran("digits 3;digits 0").digits(), 3);
+    due("no call", ran("say 1").depth(), 0);
+    due("one call", ran("call f;f:").depth(), 1);
+    due("a function", ran("say f();f:;exit").depth(), 1);
+    due("20 calls", ran("f:;call f").depth(), 20);
+    due("one that has returned", ran("call f;exit;f:;return").depth(), 0);
+    due("an interpret is no call", ran("interpret 'exit'").depth(), 0);
+    due("a call of an interpret", ran("interpret 'call f';f:;exit").depth(), 1);
+  }
+
+  /** 27 and 28: an expression that is typed, with 1 to 20 digits. */
+  private static void promises27And28() {
     Rexworth x = new Rexworth();
-    type(x, "2 / 3");
-    thrown("27 reckon 0", x, ARGUMENT, () -> x.reckon(0));
-    thrown("27 reckon 21", x, ARGUMENT, () -> x.reckon(21));
-    thrown("28 reckoned 0", x, ARGUMENT, () -> x.reckoned(0, -1));
-    thrown("28 reckoned 21", x, ARGUMENT, () -> x.reckoned(21, 0));
-    due("27 reckon 1", x.reckon(1), 3);
-    due("27 reckon 20", x.reckon(20), 22);
-    due("28 reckoned", x.reckoned(5, 6), '7');
-    thrown("28 behind", x, NO_ELEMENT, () -> x.reckoned(5, 7));
-    thrown("28 ahead", x, NO_ELEMENT, () -> x.reckoned(5, -1));
-    due("27 what is typed stays", x.wipe(), 5);
-    due("27 nothing", x.reckon(9), -20);
-    thrown("28 nothing", x, NO_ELEMENT, () -> x.reckoned(9, 0));
-    type(x, "1/0");
-    due("27 an error", x.reckon(9), -42);
-    thrown("28 an error", x, NO_ELEMENT, () -> x.reckoned(9, 0));
-    x.wipe();
+    due("nothing is none", x.reckon(9), -20);
+    refused("nothing has no sign", x, NO_ELEMENT, () -> x.reckoned(9, 0));
+    type(x, "1/3");
+    due("1 digit", x.reckon(1), 3);
+    due("20 digits", x.reckon(20), 22);
+    due("the first sign", x.reckoned(20, 0), '0');
+    due("the last sign", x.reckoned(20, 21), '3');
+    refused("behind it", x, NO_ELEMENT, () -> x.reckoned(20, 22));
+    refused("0 digits", x, ARGUMENT, () -> x.reckon(0));
+    refused("21 digits", x, ARGUMENT, () -> x.reckon(21));
+    refused("0 digits, a sign", x, ARGUMENT, () -> x.reckoned(0, 0));
+    refused("21 digits, a sign", x, ARGUMENT, () -> x.reckoned(21, 0));
+    for (int far : FAR) {
+      refused(far + " digits", x, ARGUMENT, () -> x.reckon(far));
+      refused(far + " digits, a sign", x, ARGUMENT, () -> x.reckoned(far, 0));
+      refused("place " + far, x, NO_ELEMENT, () -> x.reckoned(9, far));
+      refused("digits and place " + far, x, ARGUMENT, () -> x.reckoned(far, far));
+    }
+    due("what is typed stays", x.wipe(), 3);
     type(x, "''");
-    due("27 an empty value", x.reckon(9), 0);
-    thrown("28 an empty value", x, NO_ELEMENT, () -> x.reckoned(9, 0));
-    Rexworth set = ran("a = 5", "f:", "return 1");
-    type(set, "a");
-    due("27 nothing is set", set.reckoned(9, 0), 'a');
-    set.wipe();
-    type(set, "f()");
-    due("27 no lines are there", set.reckon(9), -43);
-    due("27 the last run stays", value(set, "a") + set.steps() + set.isTrue(), "=52true");
+    due("no signs", x.reckon(9), 0);
+    refused("no sign", x, NO_ELEMENT, () -> x.reckoned(9, 0));
+    x.wipe();
+    type(x, "copies(1,200)");
+    due("200 signs", x.reckon(9), 200);
+    due("the 200th", x.reckoned(9, 199), '1');
+    refused("a 201st", x, NO_ELEMENT, () -> x.reckoned(9, 200));
+    x.wipe();
+    type(x, "copies(1,201)");
+    due("201 signs", x.reckon(9), -45);
+    refused("of 201 signs", x, NO_ELEMENT, () -> x.reckoned(9, 0));
+    refused("nothing was run by it", x, STATE, x::end);
+    Rexworth after = ran("a = 5;digits 3;exit;f:;return 1");
+    type(after, "a 1/3");
+    due("nothing is set, with other digits", after.reckon(5), 9);
+    after.wipe();
+    type(after, "f()");
+    due("no lines are there", after.reckon(9), -43);
+    due("the digits of the run stay", after.digits(), 3);
+    due("its variables, too", value(after, "a"), "=5");
   }
 
-  private static void sums() {
-    Rexworth x = program("say 'ab'", "exit", "say 3");
-    thrown("30 doneShare", x, STATE, x::doneShare);
-    thrown("31 meanSaid", x, STATE, x::meanSaid);
-    due("29 nothing was run", x.checksum(), 7L);
-    x.run(9);
-    long sum = ((7 * 31 + 'a') * 31 + 'b') * 31 + 2;
-    due("29 checksum", x.checksum(), sum * 31 + 2);
-    due("30 doneShare", x.doneShare(), 2f / 3f);
-    due("31 meanSaid", x.meanSaid(), 2.0);
-    Rexworth mean = ran("say 'ab'", "say ''", "say 3");
-    due("31 meanSaid of three", mean.meanSaid(), 3.0 / 3.0);
-    due("31 meanSaid of two", ran("say 'ab'", "say 3").meanSaid(), 1.5);
+  /** The sum over a run as it would be without an end. */
+  private static BigInteger sumOf(Rexworth x) {
+    BigInteger sum = BigInteger.valueOf(7);
+    BigInteger many = BigInteger.valueOf(31);
+    for (int i = 0; i < x.said(); i++) {
+      for (int k = 0; k < x.saidLength(i); k++) {
+        sum = sum.multiply(many).add(BigInteger.valueOf(x.saidSign(i, k)));
+      }
+      sum = sum.multiply(many).add(BigInteger.valueOf(x.saidLength(i)));
+    }
+    return sum.multiply(many).add(BigInteger.valueOf(x.steps()));
+  }
+
+  /** 29: a sum over the last run, which wraps around. */
+  private static void promise29() {
+    due("nothing said, no steps", ran("").checksum(), 7L * 31);
+    due("nothing said", ran("a = 1").checksum(), 7L * 31 + 1);
+    due("nothing but an empty line", ran("say ''").checksum(), 7L * 31 * 31 + 1);
+    due("a sign", ran("say 'a'").checksum(), ((7L * 31 + 'a') * 31 + 1) * 31 + 1);
+    Rexworth least = ran("say copies('z', 9)");
+    due("a sum that is no wrap-around", sumOf(least).bitLength() < 64, true);
+    due("nine signs", least.checksum(), sumOf(least).longValue());
+    String[] programs = {
+      "say copies('z', 11)", "say copies('z', 12)", "say copies('z', 13)", "say copies('z', 200)",
+      "do i = 1 to 300;say i;end", "say 100/3;say '';say 1/0", "do i = 1;say copies(i, 9);end"
+    };
+    for (String text : programs) {
+      Rexworth x = ran(text);
+      due("beyond a long: " + text, sumOf(x).bitLength() > 63, true);
+      due("the sum of " + text, x.checksum(), sumOf(x).longValue());
+    }
+  }
+
+  /** 30: the share of lines that were done. 31: the mean number of signs of lines said. */
+  private static void promises30And31() {
+    due("none of one", ran("").doneShare(), 0f);
+    due("one of one", ran("say 1").doneShare(), 1f);
+    due("one of three", ran("exit;;say 1").doneShare(), 1f / 3f);
+    due("one of 40", ran("exit" + ";".repeat(39)).doneShare(), 1f / 40f);
+    due("one that was done often", ran("f:;signal f").doneShare(), 0.5f);
+    due("as it failed", ran("say;say 1").doneShare(), 0.5f);
     Rexworth silent = ran("a = 1");
-    thrown("31 nothing was said", silent, ArithmeticException.class, silent::meanSaid);
-    due("29 nothing was said", silent.checksum(), 7L * 31 + 1);
-    due("30 all", silent.doneShare(), 1f);
-    due("30 none", ran("", "f:").doneShare(), 0f);
+    refused("nothing was said", silent, ArithmeticException.class, silent::meanSaid);
+    due("an empty line was said", ran("say ''").meanSaid(), 0.0);
+    due("200 signs", ran("say copies('a', 200)").meanSaid(), 200.0);
+    due("a third", ran("say '';say '';say 1").meanSaid(), 1.0 / 3.0);
+    due("two thirds", ran("say '';say 1;say 1").meanSaid(), 2.0 / 3.0);
+    Rexworth x = ran("say 'abc';exit;say 1");
     x.clear();
-    due("30 of those that were run", x.doneShare(), 2f / 3f);
+    x.line();
+    due("of lines as they were run", x.doneShare(), 2f / 3f);
+    due("of what was said then", x.meanSaid(), 3.0);
   }
 
-  private static void truth() {
-    Rexworth x = ran("i = 0", "do while i < 4", "i = i + 1", "interpret 'say i'", "call f i", "end",
-        "exit", "f:", "procedure", "parse arg n", "return n * 2");
-    due("32 isTrue", x.isTrue(), true);
-    due("32 isTrue again", x.isTrue(), true);
-    due("32 steps", x.steps() - x.done(1) - x.done(3) - x.done(4) * 4 - x.done(5) - x.done(2) - 2, 4);
-    due("32 as it is over", isTrueOf(7, "do i = 1", "say i", "end"), true);
-    due("32 as it failed", isTrueOf(7, "say copies('a', 201)"), true);
-    due("32 with nothing run", program("say 1").isTrue(), true);
-    Rexworth changed = ran("say 1");
-    changed.clear();
-    type(changed, "say 2");
-    changed.line();
-    due("32 by its own lines", changed.isTrue() + said(changed), "true1/");
-  }
-
-  private static boolean isTrueOf(int steps, String... lines) {
-    Rexworth x = program(lines);
-    x.run(steps);
-    return x.isTrue();
+  /** 32: the last run is made again with its lines, arguments and steps. */
+  private static void promise32() {
+    due("nothing was run", program("say 1").isTrue(), true);
+    due("a run that is over", ran(7, "do i = 1;say i;end").isTrue(), true);
+    due("a run that failed", ran("say 1/0").isTrue(), true);
+    due("steps of what was interpreted", ran("do 9;interpret 'say 1';end").isTrue(), true);
+    due("a text of 200 signs", ran("say copies('a', 200)").isTrue(), true);
+    Rexworth x = program("parse arg a;say a;do i = 1;say i;end");
+    type(x, "one");
+    x.argument();
+    x.run(9);
+    x.clear();
+    x.bare();
+    type(x, "say 2");
+    x.line();
+    type(x, "two");
+    x.argument();
+    due("with the lines and arguments of the run", x.isTrue(), true);
+    due("which stays as it was", said(x) + ended(x), "one/1/2/ over 3");
+    refused("a run that is refused", x, ARGUMENT, () -> x.run(0));
+    due("with the steps of the run", x.isTrue(), true);
+    type(x, "1/0");
+    x.reckon(1);
+    due("as an expression was reckoned", x.isTrue(), true);
+    due("again", x.isTrue(), true);
   }
 
   public static void main(String[] args) {
-    aNewObject();
-    typing();
-    linesAndPlaces();
-    givingArguments();
-    running();
-    howItEnded();
-    whatWasSaid();
-    variables();
-    queueAndCommands();
-    depthAndDigits();
-    reckoning();
-    sums();
-    truth();
-    System.out.println(wrong == 0 ? "all answers are as due" : wrong + " answers are wrong");
-    if (wrong != 0) {
-      System.exit(1);
-    }
+    promise1();
+    promises2And3();
+    promises4To6();
+    promises7And8();
+    promise9();
+    promises10To12();
+    promises13And14();
+    promises15To17();
+    promises18To20();
+    variablesOfTheLastClause();
+    promises21To24();
+    promises25And26();
+    promises27And28();
+    promise29();
+    promises30And31();
+    promise32();
+    finish();
   }
 }
