@@ -702,6 +702,9 @@ public final class Rexworth {
     }
 
     private boolean sameText(int one, int other, int size) {
+      if (Math.min(one, other) < 0 || Math.max(one, other) + size > text.length) {
+        return false;
+      }
       for (int i = 0; i < size; i++) {
         if (text[one + i] != text[other + i]) {
           return false;
@@ -828,10 +831,16 @@ public final class Rexworth {
 
     /** Where the signs of a part begin, the quotes of a text aside. */
     int from(int part) {
+      if (part < 0 || part >= count) {
+        return 0;
+      }
       return kinds[part] == Code.TEXT ? begins[part] + 1 : begins[part];
     }
 
     int size(int part) {
+      if (part < 0 || part >= count) {
+        return 0;
+      }
       return ends[part] - begins[part] - (kinds[part] == Code.TEXT ? 2 : 0);
     }
 
@@ -1318,6 +1327,9 @@ public final class Rexworth {
 
     /** The place of a word in a list of words, from 0; -1 if it is not there. */
     private int find(String list, int from, int size) {
+      if (from < 0 || from + size > code.text.length) {
+        return -1;
+      }
       int index = 0;
       for (int at = 0; at < list.length(); at++) {
         int same = 0;
@@ -1448,12 +1460,15 @@ public final class Rexworth {
     private static final int HASH = 9;
     private static final int ALONE = 0;
     private static final int ELEMENT = 1;
+    /** As many signs stand in a long: a run may set thousands of long values. */
+    private static final int PACKED = 8;
+    private static final int SIGN_BITS = 8;
 
     private final Code code;
     private int[] cells;
     private int[] heads;
     private int count;
-    private char[] signs;
+    private long[] store;
     private int top;
     private final int[] pools;
     private final int[] exposed;
@@ -1467,19 +1482,23 @@ public final class Rexworth {
     private boolean element;
     // the value that was looked at
     private char[] found;
-    private int foundFrom;
     private int foundSize;
+    private final char[] shown;
+    // what was sought last, as it would stand in the store
+    private final long[] sought;
     private int hash;
 
     Variables(Code code) {
       this.code = code;
       cells = new int[64 * CELLS];
       heads = new int[64];
-      signs = new char[1024];
+      store = new long[256];
       pools = new int[MOST_UNDER_WAY + 1];
       exposed = new int[MOST_UNDER_WAY + 1];
-      key = new char[128];
-      found = key;
+      key = new char[2 * MOST_TEXT];
+      shown = new char[MOST_TEXT];
+      found = shown;
+      sought = new long[2 * MOST_TEXT / PACKED];
     }
 
     void reset() {
@@ -1505,7 +1524,7 @@ public final class Rexworth {
 
     /** Speaks of a variable from now on, of an element with the tail that is put together. */
     void locate(char[] text, int from, int size) {
-      int end = from + size;
+      int end = Math.min(from + size, text.length);
       int dot = from;
       while (dot < end && text[dot] != '.') {
         dot++;
@@ -1526,7 +1545,7 @@ public final class Rexworth {
           part = find(poolOf(text, begin, at - begin), text, begin, at - begin, ALONE);
         }
         if (part >= 0 && cells[part + VALUE_SIZE] >= 0) {
-          append(signs, cells[part + VALUE], cells[part + VALUE_SIZE]);
+          appendValue(part);
         } else {
           append(text, begin, at - begin);
         }
@@ -1552,15 +1571,14 @@ public final class Rexworth {
         return show(stem);
       }
       found = key;
-      foundFrom = 0;
       foundSize = keySize;
       return false;
     }
 
     private boolean show(int slot) {
-      found = signs;
-      foundFrom = cells[slot + VALUE];
-      foundSize = cells[slot + VALUE_SIZE];
+      found = shown;
+      foundSize = Math.min(cells[slot + VALUE_SIZE], shown.length);
+      unpack(cells[slot + VALUE], foundSize, shown, 0);
       return true;
     }
 
@@ -1570,28 +1588,34 @@ public final class Rexworth {
     }
 
     char foundSign(int place) {
-      return place >= 0 && place < foundSize ? found[foundFrom + place] : ' ';
+      return place >= 0 && place < foundSize ? found[place] : ' ';
     }
 
+    /** Sets the variable that is spoken of. */
     void put(char[] text, int from, int size) {
-      int slot = slotFor(stemSize, ALONE);
+      int slot = find(keyPool, key, 0, stemSize, ALONE);
+      if (slot < 0) {
+        slot = add(stemSize, ALONE);
+      }
       if (element) {
         int turn = cells[slot + TURN];
-        slot = slotFor(keySize, ELEMENT);
+        slot = find(keyPool, key, 0, keySize, ELEMENT);
+        if (slot < 0) {
+          slot = add(keySize, ELEMENT);
+        }
         cells[slot + TURN] = turn;
       } else {
         cells[slot + TURN]++;
       }
-      if (size > cells[slot + ROOM]) {
-        int room = (size + 15) & ~15;
-        if (top + room > signs.length) {
-          signs = moreSigns(signs, top + room);
-        }
-        cells[slot + VALUE] = top;
+      int room = (size + PACKED - 1) / PACKED;
+      if (room > cells[slot + ROOM]) {
+        cells[slot + VALUE] = reserve(room);
         cells[slot + ROOM] = room;
-        top += room;
       }
-      System.arraycopy(text, from, signs, cells[slot + VALUE], size);
+      int at = cells[slot + VALUE];
+      for (int i = 0; i < room; i++) {
+        store[at + i] = packed(text, from + i * PACKED, from + size);
+      }
       cells[slot + VALUE_SIZE] = size;
     }
 
@@ -1615,11 +1639,52 @@ public final class Rexworth {
     }
 
     private void append(char[] text, int from, int size) {
+      if (from < 0 || size < 0 || from + size > text.length) {
+        return;
+      }
       if (keySize + size > key.length) {
         key = moreSigns(key, keySize + size);
       }
       System.arraycopy(text, from, key, keySize, size);
       keySize += size;
+    }
+
+    private void appendValue(int slot) {
+      int size = cells[slot + VALUE_SIZE];
+      if (keySize + size > key.length) {
+        key = moreSigns(key, keySize + size);
+      }
+      unpack(cells[slot + VALUE], size, key, keySize);
+      keySize += size;
+    }
+
+    /** The signs from a place on, up to an end, that stand in one long. */
+    private static long packed(char[] text, int from, int end) {
+      long signs = 0;
+      for (int i = Math.min(Math.min(from + PACKED, end), text.length) - 1; i >= from; i--) {
+        signs = signs << SIGN_BITS | text[i];
+      }
+      return signs;
+    }
+
+    private void unpack(int at, int size, char[] out, int from) {
+      long signs = 0;
+      for (int i = 0; i < size && at + i / PACKED < store.length && from + i < out.length; i++) {
+        signs = i % PACKED == 0 ? store[at + i / PACKED] : signs >>> SIGN_BITS;
+        out[from + i] = (char) (signs & 255);
+      }
+    }
+
+    /** Lets so many further longs of the store be used; tells where they begin. */
+    private int reserve(int room) {
+      if (top + room > store.length) {
+        long[] more = new long[Math.max(top + room, 2 * store.length)];
+        System.arraycopy(store, 0, more, 0, top);
+        store = more;
+      }
+      int at = top;
+      top += room;
+      return at;
     }
 
     /** The variables in which a name or a stem is, as it may be exposed. */
@@ -1651,11 +1716,17 @@ public final class Rexworth {
       return false;
     }
 
-    /** Where a variable is kept; -1 if it is not. What it is hashed to is kept for slotFor. */
+    /** Where a variable is kept; -1 if it is not. What was sought stays known for add. */
     private int find(int pool, char[] text, int from, int size, int kind) {
+      int room = (size + PACKED - 1) / PACKED;
+      if (room > sought.length) {
+        return -1;
+      }
       hash = 31 * pool + kind;
-      for (int i = from; i < from + size; i++) {
-        hash = 31 * hash + text[i];
+      for (int i = 0; i < room; i++) {
+        long signs = packed(text, from + i * PACKED, from + size);
+        sought[i] = signs;
+        hash = 31 * hash + (int) (signs ^ signs >>> 32);
       }
       hash ^= hash >>> 15;
       int slot = heads[hash & (heads.length - 1)];
@@ -1664,10 +1735,10 @@ public final class Rexworth {
             && cells[slot + NAME_SIZE] == size) {
           int name = cells[slot + NAME];
           int same = 0;
-          while (same < size && signs[name + same] == text[from + same]) {
+          while (same < room && store[name + same] == sought[same]) {
             same++;
           }
-          if (same == size) {
+          if (same == room) {
             return slot;
           }
         }
@@ -1676,24 +1747,18 @@ public final class Rexworth {
       return -1;
     }
 
-    /** Where the variable that is spoken of, or its stem, is kept, made if it is not there. */
-    private int slotFor(int size, int kind) {
-      int slot = find(keyPool, key, 0, size, kind);
-      if (slot >= 0) {
-        return slot;
-      }
-      slot = count * CELLS;
+    /** Adds the variable that was sought, and was not found, to those of the key; tells where. */
+    private int add(int size, int kind) {
+      int slot = count * CELLS;
       if (slot + CELLS > cells.length) {
         cells = moreCells(cells, slot + CELLS);
         spread(2 * heads.length);
       }
-      if (top + size > signs.length) {
-        signs = moreSigns(signs, top + size);
-      }
-      System.arraycopy(key, 0, signs, top, size);
+      int room = Math.min((size + PACKED - 1) / PACKED, sought.length);
+      cells[slot + NAME] = reserve(room);
+      System.arraycopy(sought, 0, store, cells[slot + NAME], room);
       cells[slot + POOL] = keyPool;
       cells[slot + KIND] = kind;
-      cells[slot + NAME] = top;
       cells[slot + NAME_SIZE] = size;
       cells[slot + VALUE_SIZE] = -1;
       cells[slot + ROOM] = 0;
@@ -1702,7 +1767,6 @@ public final class Rexworth {
       int place = hash & (heads.length - 1);
       cells[slot + NEXT] = heads[place];
       heads[place] = slot;
-      top += size;
       count++;
       return slot;
     }
@@ -1737,7 +1801,7 @@ public final class Rexworth {
     /** Reads a text, rounded to so many digits; false if it is no number. */
     boolean read(char[] text, int from, int size, int most) {
       int at = from;
-      int end = from + size;
+      int end = Math.min(from + size, text.length);
       while (at < end && text[at] == ' ') {
         at++;
       }
@@ -3126,7 +3190,7 @@ public final class Rexworth {
         } else if (variables.foundSize > MOST_TEXT) {
           fault = Reckoner.TOO_LONG;
         } else {
-          values.push(variables.found, variables.foundFrom, variables.foundSize);
+          values.push(variables.found, 0, variables.foundSize);
         }
       }
     }
@@ -3360,7 +3424,7 @@ public final class Rexworth {
         fault = Reckoner.TOO_LONG;
         return;
       }
-      values.push(variables.found, variables.foundFrom, variables.foundSize);
+      values.push(variables.found, 0, variables.foundSize);
       if (!reckoner.isNumber(values.count - 1)) {
         fault = Reckoner.NOT_WHOLE;
       }
@@ -3600,7 +3664,7 @@ public final class Rexworth {
         fault = Reckoner.TOO_LONG;
         return;
       }
-      values.push(variables.found, variables.foundFrom, variables.foundSize);
+      values.push(variables.found, 0, variables.foundSize);
       templates.begin(pc, values.count - 1, 1, values.count - 1);
     }
   }

@@ -110,8 +110,14 @@ public final class OracleTest {
       }
     }
     List<String> arguments = new ArrayList<>();
+    boolean isTexts = random.nextInt(3) > 0;
     for (int i = random.nextInt(5); i > 0; i--) {
-      arguments.add(maker.plainText());
+      arguments.add(isTexts ? maker.plainText() : maker.longClause());
+    }
+    if (!isTexts && lines.size() < 37) {
+      lines.add(0, "parse arg p, q, r, s");
+      lines.add(random.nextInt(lines.size() + 1), maker.longInterpret());
+      lines.add(random.nextInt(lines.size() + 1), maker.longInterpret());
     }
     int steps = random.nextInt(4) == 0 ? 1 + random.nextInt(60) : 300 + random.nextInt(1701);
     Oracle oracle = new Oracle(lines, arguments, steps);
@@ -1744,6 +1750,23 @@ public final class OracleTest {
 
     static String fit(String text, int most) {
       return text.length() > most ? text.substring(0, most) : text;
+    }
+
+    /** A line that may well be a piece of one that is longer. */
+    String longClause() {
+      String text = clause();
+      for (int i = random.nextInt(6); i > 0; i--) {
+        text += pick(OPERATORS) + expression(2);
+      }
+      return random.nextInt(4) == 0 ? spoilt(fit(text, 60)) : fit(text, 60);
+    }
+
+    String longInterpret() {
+      return pick(new String[] {"interpret p", "interpret q", "interpret p q", "interpret p'+'q",
+        "interpret 'say' p", "interpret 'x.i =' p'*'q", "interpret p||q||r", "interpret p||q||r||s",
+        "interpret 'a =' p'||'q'||'r'||'s", "interpret 'do' p", "interpret 'call f' p','q',' r",
+        "interpret copies('-', 150)p", "interpret 'say' copies('(', 60)p||copies(')', 60)",
+        "interpret 'parse var p' copies('a ', 60)q", "interpret 'drop' copies('x.i ', 40)"});
     }
 
     void block(List<String> lines, int size, int depth) {
