@@ -605,6 +605,8 @@ public final class EdgesTest extends Asking {
     gives(3, "1/1.001", "1");
     gives(3, "2000/1", "2.00e+3");
     gives(3, "1/4000", "0.00025");
+    gives(2, "3/29", "0.1");
+    gives(2, "13/44", "0.3");
   }
 
   /** '%' is the whole part of the quotient. */
@@ -684,6 +686,8 @@ public final class EdgesTest extends Asking {
     gives("'1e-2'**50", "error 42");
     gives("10**-99", "1e-99");
     gives(20, "99999999999999999999**2", "9.9999999999999999998e+39");
+    gives(20, "98765432109876543210**5", "9.3977706247149176702e+99");
+    gives("2+3+0**2", "5");
   }
 
   /** Without an exponent if its digits ahead of the dot are no more than are set. */
@@ -967,6 +971,7 @@ public final class EdgesTest extends Asking {
     counts("do '0e9';end", "1: 1 0");
     counts("do ' 2 ';end", "4: 2 2");
     counts("do '9e99';end", "2000: 1000 1000 over 0");
+    counts("do 1 = 1;end", "2: 1 1");
     says("do -1;end", " 26 at 0");
     says("do 0.5;end", " 26 at 0");
     says("do '';end", " 26 at 0");
@@ -1059,6 +1064,7 @@ public final class EdgesTest extends Asking {
     says("do;leave;end", " 28 at 1");
     says("if 1;leave;end", " 28 at 1");
     says("do 1;end;leave", " 28 at 2");
+    says("do 1;end;if 1;leave;end", " 28 at 3");
     says("do 1;call f;end;exit;f:;leave", " 28 at 5");
   }
 
@@ -1283,6 +1289,19 @@ public final class EdgesTest extends Asking {
     says("call g f();f:;return", " 44 at 0");
     says("say f();exit;f:;return ''", "/");
     says("call f;say 1;exit;f:;say g();return;g:;return", " 44 at 4");
+  }
+
+  /** What is done in a function is nothing to what its caller works with. */
+  private static void clausesInFunctions() {
+    String[] clauses = {"digits 3", "pull a", "push 1", "queue 1", "a = 1", "drop a", "'go'",
+        "address e", "say 1", "parse arg a", "parse value 1 with a", "parse var a b", "call g",
+        "interpret ''", "interpret 'a = 1'", "do 2;end", "do i = 1 to 2 by 1;leave;end",
+        "if 1;end", "if 0;end", "signal h;h:", "signal on novalue", "do while 0;end",
+        "do 2;return 7;end", "do i = 1 to 2;return 7;end", "interpret 'return 7'"};
+    for (String clause : clauses) {
+      Rexworth x = ran("a = 4 5 f(6) 8;say a;exit;f:;" + clause + ";return 7;g:;return");
+      due(clause + " in a function", said(x).endsWith("4 5 7 8/") + ended(x), "true");
+    }
   }
 
   /** 'exit' and the last line end the program, 'return' outside of calls, too. */
@@ -1664,6 +1683,9 @@ public final class EdgesTest extends Asking {
     says("a = 'say' copies('1', 196);interpret a", times("1", 196) + "/");
     says("a = 'say 1';interpret 'interpret a'", "1/");
     says("interpret 'interpret end'", " 20 at 0");
+    says("parse arg a;interpret a", " 20 at 1", "say 'a");
+    says("parse arg a;interpret a", " 20 at 1", "'");
+    says("parse arg a;interpret a", "a b/", "say 'a' 'b'");
     says("interpret 'if = 1';say if", "1/");
   }
 
@@ -1780,6 +1802,7 @@ public final class EdgesTest extends Asking {
   private static void muchOfAll() {
     says("do i = 1 to 900;x.i = i * i;end;say x.1 x.450 x.900", " over 2");
     says("do i = 1 to 600;x.i = i * i;end;say x.1 x.450 x.600 x.601", "1 202500 360000 x.601/");
+    says("do i = 1 to 300;x.i = i;end;s = 0;do i = 1 to 300;s = s + x.i;end;say s", "45150/");
     says("do i = 1 to 300;a = copies(i, 66);x.i = a;end;say length(x.9) length(x.300) x.9",
         "66 198 " + times("9", 66) + "/");
     String line = "a = a '" + times("c", 51) + "'";
@@ -1894,6 +1917,7 @@ public final class EdgesTest extends Asking {
     exposedNames();
     results();
     functionsWithoutAValue();
+    clausesInFunctions();
     endsOfPrograms();
     ofTheWholeProgram();
     twentyUnderWay();

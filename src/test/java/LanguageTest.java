@@ -101,6 +101,7 @@ public final class LanguageTest extends Asking {
     gives(3, "1005 * 1", "1.01e+3");
     gives(3, "1004.9 * 1", "1.00e+3");
     gives(3, "2000 / 1", "2.00e+3");
+    gives("'6e15' / 3", "2.00000000e+15");
     gives(3, "0.000001 + 0", "0.000001");
     gives(3, "0.0000001 + 0", "1e-7");
     gives(1, "15 + 0", "2e+1");
