@@ -1,4 +1,5 @@
 import com.sun.source.tree.ArrayTypeTree;
+import com.sun.source.tree.AssertTree;
 import com.sun.source.tree.AssignmentTree;
 import com.sun.source.tree.BinaryTree;
 import com.sun.source.tree.ClassTree;
@@ -15,6 +16,7 @@ import com.sun.source.tree.MethodInvocationTree;
 import com.sun.source.tree.MethodTree;
 import com.sun.source.tree.NewArrayTree;
 import com.sun.source.tree.NewClassTree;
+import com.sun.source.tree.SwitchTree;
 import com.sun.source.tree.SynchronizedTree;
 import com.sun.source.tree.ThrowTree;
 import com.sun.source.tree.Tree;
@@ -281,6 +283,9 @@ public final class RulesTest {
       if (element.getModifiers().contains(javax.lang.model.element.Modifier.PUBLIC)) {
         faces.add(element);
       }
+      if (Set.of("equals", "hashCode", "toString").contains(tree.getName().toString())) {
+        say("6", tree, tree.getName() + " of an own object");
+      }
       if (tree.getParameters().size() > 7) {
         say("11", tree, tree.getName() + " has more than seven parameters");
       }
@@ -511,6 +516,21 @@ public final class RulesTest {
       if (!isCompared || !isCounted[0]) {
         say("9", loop, "a loop whose end can't be seen: " + text);
       }
+    }
+
+    @Override
+    public Void visitSwitch(SwitchTree tree, Void nothing) {
+      String type = "" + trees.getTypeMirror(TreePath.getPath(unit, tree.getExpression()));
+      if (type.startsWith("java.lang")) {
+        say("10", tree, "a switch on " + type);
+      }
+      return super.visitSwitch(tree, nothing);
+    }
+
+    @Override
+    public Void visitAssert(AssertTree tree, Void nothing) {
+      say("6", tree, "assert");
+      return super.visitAssert(tree, nothing);
     }
 
     @Override
