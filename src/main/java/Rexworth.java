@@ -294,7 +294,7 @@ public final class Rexworth {
   }
 
   public float doneShare() throws IllegalStateException {
-    if (ranSteps == 0) {
+    if (ranSteps == 0 || ranLines.count == 0) {
       throw new IllegalStateException("nothing was run");
     }
     int count = 0;
